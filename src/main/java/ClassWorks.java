@@ -2445,18 +2445,22 @@ public final class ClassWorks {
             }
             int[] extra = world.extra.row;
             int toldHere = extra[frame];
+            int stackRow = frame + 2 + toldHere;
+            int onStack = extra[stackRow - 1];
+            boolean handled = thrown != NO_HANDLER;
+            if (handled && onStack != 1) {
+                return 37;
+            }
             for (int i = 0; i < locals; i++) {
                 int rule = fits(now[i], i < toldHere ? extra[frame + 1 + i] : UNSET);
                 if (rule != 0) {
                     return rule;
                 }
             }
-            int stackRow = frame + 2 + toldHere;
-            boolean handled = thrown != NO_HANDLER;
-            if (extra[stackRow - 1] != (handled ? 1 : depth)) {
+            if (!handled && onStack != depth) {
                 return 37;
             }
-            for (int i = 0; i < extra[stackRow - 1]; i++) {
+            for (int i = 0; i < onStack; i++) {
                 int rule = fits(handled ? thrown : now[PART_MOST + i], extra[stackRow + i]);
                 if (rule != 0) {
                     return rule;
@@ -3311,7 +3315,8 @@ public final class ClassWorks {
         // Of faults of the machine: 100 times the rule and the class; their LOCKS.
         private final Ints faults = new Ints(16);
         private final Ints faultLocks = new Ints(16);
-        private final boolean[] touched = new boolean[OBJECTS_MOST + 1];
+        // Of each number: whether it was touched since beginTouch(), 1 or 0.
+        private final byte[] touched = new byte[OBJECTS_MOST + 1];
         private final int[] open = new int[OBJECTS_MOST + 1];
         private int opened = 0;
 
@@ -3428,13 +3433,13 @@ public final class ClassWorks {
         }
 
         void beginTouch() {
-            Arrays.fill(touched, false);
+            Arrays.fill(touched, (byte) 0);
             opened = 0;
         }
 
         void touch(int reference) {
-            if (there(reference) && !touched[reference]) {
-                touched[reference] = true;
+            if (there(reference) && touched[reference] == 0) {
+                touched[reference] = 1;
                 open[opened] = reference;
                 opened++;
             }
@@ -3454,7 +3459,7 @@ public final class ClassWorks {
             int was = objects;
             int to = 0;
             for (int r = 1; r <= highest; r++) {
-                if (kind[r] != FREE && touched[r]) {
+                if (kind[r] != FREE && touched[r] == 1) {
                     System.arraycopy(data, base[r], spare, to, length[r]);
                     base[r] = to;
                     to += length[r];
@@ -4424,12 +4429,12 @@ public final class ClassWorks {
                 out.add('-');
                 rest = -rest;
             }
-            long unit = 1;
-            while (unit <= rest / 10) {
-                unit *= 10;
-            }
-            for (; unit > 0; unit /= 10) {
-                out.add((int) ('0' + rest / unit % 10));
+            boolean begun = false;
+            for (long unit = 1000000000; unit > 0; unit /= 10) {
+                begun = begun || rest >= unit || unit == 1;
+                if (begun) {
+                    out.add((int) ('0' + rest / unit % 10));
+                }
             }
         }
 

@@ -205,6 +205,12 @@ public final class LanguageCheck {
         }
 
         @Override public Void visitMethodInvocation(MethodInvocationTree t, Void v) {
+            if (t.getMethodSelect().toString().equals("Arrays.fill")) {
+                TypeMirror row = trees.getTypeMirror(new TreePath(getCurrentPath(), t.getArguments().get(0)));
+                if (!row.toString().matches("(int|long|byte|short|char)\\[\\]")) {
+                    sayAt(t, "Arrays.fill over " + row);
+                }
+            }
             if (!t.toString().startsWith("super(")) {
                 used(trees.getElement(getCurrentPath()), t);
             }
