@@ -1502,7 +1502,9 @@ public final class ClassWorks {
         /** A class is there, the one with this number; its columns but these are to be set yet. */
         void addClass(int name, int flags, int parent, int c) {
             int row = c * CLASS_WIDTH;
-            Arrays.fill(rows, row, row + CLASS_WIDTH, 0);
+            for (int i = 0; i < CLASS_WIDTH; i++) {
+                rows[row + i] = 0;
+            }
             rows[row + CLASS_NAME] = name;
             rows[row + CLASS_FLAGS] = flags;
             rows[row + CLASS_PARENT] = parent;
@@ -1612,7 +1614,10 @@ public final class ClassWorks {
             long seen = 0;
             long next = ups(c, told ? toldParent(c) : up(c));
             for (int i = 0; i < CLASSES_MOST && next != 0; i++) {
-                int x = Long.numberOfTrailingZeros(next);
+                int x = 0;
+                while (x < CLASSES_MOST - 1 && (next >> x & 1) == 0) {
+                    x++;
+                }
                 seen |= 1L << x;
                 next = (next | ups(x, told ? toldParent(x) : up(x))) & ~seen;
             }
@@ -3325,7 +3330,9 @@ public final class ClassWorks {
         }
 
         void restart() {
-            Arrays.fill(kind, 0, highest + 1, FREE);
+            for (int r = 0; r <= highest; r++) {
+                kind[r] = FREE;
+            }
             objects = 0;
             top = 0;
             leastFree = 1;
@@ -3351,8 +3358,10 @@ public final class ClassWorks {
             base[r] = top;
             length[r] = size;
             lock[r] = 0;
-            Arrays.fill(data, top, top + size, 0);
-            top += size;
+            for (int i = 0; i < size; i++) {
+                data[top] = 0;
+                top++;
+            }
             objects++;
             highest = Math.max(highest, r);
             return r;
@@ -3577,7 +3586,9 @@ public final class ClassWorks {
         /** A frame more, its first locals from the stack of the one before. */
         void addFrame(int c, int m, int taken) {
             int to = frames * FRAME_PLACES;
-            Arrays.fill(places, to, to + PART_MOST, 0);
+            for (int i = 0; i < PART_MOST; i++) {
+                places[to + i] = 0;
+            }
             if (frames > 0 && taken > 0) {
                 int from = (frames - 1) * FRAME_PLACES + PART_MOST + depth[frames - 1] - taken;
                 System.arraycopy(places, from, places, to, taken);

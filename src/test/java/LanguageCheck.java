@@ -12,8 +12,7 @@ public final class LanguageCheck {
     private static final int CALLS_DEEP = 8;
     private static final Set<String> LIBRARY = Set.of(
         "Arrays.fill", "Arrays.copyOf", "Arrays.copyOfRange", "System.arraycopy", "Math.min", "Math.max", "Math.abs",
-        "String.charAt", "String.length", "String.isEmpty", "String.equals", "Long.numberOfTrailingZeros",
-        "Long.bitCount", "Integer.bitCount", "Object.Object");
+        "String.charAt", "String.length");
     private static int wrong = 0;
     private static final Map<Element, Set<Element>> calls = new LinkedHashMap<>();
     private static final Map<Element, Integer> deep = new HashMap<>();
