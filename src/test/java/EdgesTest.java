@@ -11,6 +11,8 @@ public final class EdgesTest {
         removedTrials();
         fieldsAbove();
         manyWorlds();
+        abstractAtOnce();
+        startsOfParents();
         Calls.end();
     }
 
@@ -212,5 +214,48 @@ public final class EdgesTest {
             Calls.due("drop", c.x.drop(0), 1);
         }
         Calls.due("steps left", c.x.count(1), 60000 - 200);
+    }
+
+    /** 58 is asked at once of what static and special name, before null; of others behind null. */
+    private static void abstractAtOnce() {
+        Calls c = world(1, "abstract class A : Thing|method abstract static s()none|method abstract m()none|method abstract private p()none"
+            + "|method static f()none|room 1 0|static A.s()none|done|method static g()none|room 1 0|null|special A.m()none|done"
+            + "|method static h()none|room 1 0|null|call A.m()none|done|method static k()none|room 1 0|null|call A.p()none|done|end");
+        String[] names = {"f", "g", "h", "k"};
+        int[] due = {58, 58, 0, 58};
+        for (int i = 0; i < 4; i++) {
+            c.call(0, 0, "A." + names[i] + "()none");
+            c.x.step(0, 10);
+            Calls.due("rule of " + names[i], c.x.run(0, 0, 5), due[i]);
+            Calls.due("class of " + names[i], c.x.run(0, 0, 4), due[i] == 0 ? 2 : 18);
+        }
+        Calls.due("asked of the private one", c.asked(0, 21, "A.p()none"), -158);
+        Calls.due("of the other one", c.asked(0, 21, "A.m()none"), -158);
+        Calls.due("foretold", c.x.foretell(0, 21, 0, 2), 58);
+        Calls.due("not that of h", c.x.foretell(0, 21, 2, 0), 6);
+    }
+
+    /** A parent that FAILED before throws ClassFault, and the class FAILED with it; thrown without a step. */
+    private static void startsOfParents() {
+        Calls c = world(0, "class P : Thing|field static x num = 4|method static <start>()none|room 2 0|num 1|num 0|div|pop|done|end"
+            + "|class C : P|field static y num = 5|end|class U : Thing|method static f()num|room 1 0|sget P.x num|ndone"
+            + "|method static g()num|room 1 0|sget C.y num|ndone|end");
+        c.call(0, 0, "U.f()num");
+        c.x.step(0, 10);
+        Calls.due("StartFault", c.x.run(0, 0, 4), 20);
+        Calls.due("P's start did three steps", c.x.run(0, 0, 1), 3);
+        Calls.due("P's field has its number", c.x.fixed(0, 21, 0), 4);
+        Calls.due("C is new", c.x.told(0, 22, 5), 0);
+        c.call(0, 0, "U.g()num");
+        c.x.step(0, 10);
+        Calls.due("ClassFault", c.x.run(0, 0, 4), 11);
+        Calls.due("without a step", c.x.run(0, 0, 1), 0);
+        Calls.due("C FAILED", c.x.told(0, 22, 5), 3);
+        Calls.due("its field has its number", c.x.fixed(0, 22, 0), 5);
+        c.call(0, 0, "U.g()num");
+        c.x.step(0, 10);
+        Calls.due("ClassFault again", c.x.run(0, 0, 4), 11);
+        Calls.due("a step that throws", c.x.run(0, 0, 1), 1);
+        Calls.due("counted", c.x.done(0, 48), 1);
     }
 }

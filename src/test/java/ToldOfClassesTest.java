@@ -188,16 +188,16 @@ public final class ToldOfClassesTest {
         Calls.due("Thing", c.x.kind(7, 1), 100);
     }
 
-    /** Each round brings what comes one jump further: more than 100 of them are none any more. */
+    /** Each round brings what comes one jump further, twice through all: 98 rounds change something, or 100. */
     private static void rounds() {
-        for (int jumps = 40; jumps <= 74; jumps += 34) {
+        for (int jumps = 49; jumps <= 50; jumps++) {
             StringBuilder s = new StringBuilder("class A : Thing|field static s Thing|method static f()none|room 1 1|null|rstore 0|jump J"
                 + (jumps - 1) + "|B: sget A.s Thing|rstore 0|jump J" + (jumps - 1) + "|J0: jump B");
             for (int i = 1; i < jumps; i++) {
                 s.append("|J").append(i).append(": jump J").append(i - 1);
             }
             Calls c = world(s + "|end");
-            Calls.due(jumps + " jumps", c.x.kinds(0, 21, 0, true), jumps == 40 ? 0 : 44000);
+            Calls.due(jumps + " jumps", c.x.kinds(0, 21, 0, true), jumps == 49 ? 0 : 44000);
         }
     }
 
