@@ -530,14 +530,11 @@ public final class ClassWorks {
 
     public int run(int world, int thread, int what) {
         Machine m = machine(world);
-        if (m == null || what < 0 || what > 13) {
+        if (m == null || thread < 0 || thread >= THREADS || what < 0 || what > 13) {
             return BAD;
         }
         if (what >= 10) {
             return ofWorld(m, what);
-        }
-        if (thread < 0 || thread >= THREADS) {
-            return BAD;
         }
         return what == 0 ? m.stateOf(thread) : ofThread(m.runs[thread], what);
     }

@@ -31,12 +31,17 @@ public final class EdgesTest {
         c.call(0, 2, "A.f()none");
         c.x.step(0, 2);
         for (int t = -1; t <= 3; t += 4) {
-            for (int what = 0; what < 10; what++) {
+            for (int what = 0; what < 14; what++) {
                 Calls.due("run " + t + " " + what, c.x.run(0, t, what), -1);
             }
             Calls.due("value " + t, c.x.value(0, t, false, 0), -1);
             Calls.due("value " + t, c.x.value(0, t, true, 0), -1);
-            Calls.due("present with thread " + t, c.x.run(0, t, 13), 2);
+        }
+        int[] ofWorld = {0, 0, 1, 2};
+        for (int t = 0; t < 3; t++) {
+            for (int what = 10; what < 14; what++) {
+                Calls.due("of the world " + t + " " + what, c.x.run(0, t, what), ofWorld[what - 10]);
+            }
         }
         int[] due = {-2, 0, 0, 0, -2, 0, 0, -2, -2, -2};
         for (int what = 0; what < 10; what++) {

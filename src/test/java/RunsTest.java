@@ -186,7 +186,7 @@ public final class RunsTest {
         c.call(0, 0, "C.f()none");
         c.x.step(0, 9);
         Calls.due("objects", c.x.run(0, 0, 10), 2);
-        Calls.due("fields and elements", c.x.run(0, 9, 11), 7);
+        Calls.due("fields and elements", c.x.run(0, 2, 11), 7);
         Calls.due("class", c.x.object(0, 1, -1), 22);
         Calls.due("locks", c.x.object(0, 1, -2), 0);
         Calls.due("fields", c.x.object(0, 1, -3), 4);
