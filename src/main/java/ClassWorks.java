@@ -25,7 +25,6 @@ public final class ClassWorks {
     private static final int TRIAL_LINES = 60;
     // A text of 1200 bytes without a last 10 is kept with one.
     private static final int TRIAL_ROOM = 1204;
-    private static final int TEXT_TOLD = 256;
     private static final int RULES = 60;
     private static final int UNKNOWN = -1;
 
@@ -1091,7 +1090,7 @@ public final class ClassWorks {
     }
 
     public int text(int trial, int i) {
-        if (!isTrial(trial) || i < 0 || i >= TEXT_TOLD || i >= sizes[trial]) {
+        if (!isTrial(trial) || i < 0 || i >= sizes[trial]) {
             return BAD;
         }
         return stock[trial * TRIAL_ROOM + i] & 255;

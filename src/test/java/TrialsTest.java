@@ -4,6 +4,7 @@ public final class TrialsTest {
 
     public static void main(String[] args) {
         told();
+        toldToItsEnd();
         refused();
         limits();
         outcomes();
@@ -22,7 +23,7 @@ public final class TrialsTest {
 
     private static String text(Calls c, int trial) {
         StringBuilder s = new StringBuilder();
-        for (int i = 0; i < 256 && c.x.text(trial, i) >= 0; i++) {
+        for (int i = 0; c.x.text(trial, i) >= 0; i++) {
             s.append((char) c.x.text(trial, i));
         }
         return s.toString();
@@ -36,6 +37,8 @@ public final class TrialsTest {
         Calls.due("one", c.x.count(0), 1);
         Calls.same("its text", text(c, 0), "class A : Thing # here\nend\n  run A.f()num\n");
         Calls.due("text -1", c.x.text(0, -1), -1);
+        Calls.due("its last byte", c.x.text(0, 41), '\n');
+        Calls.due("behind it", c.x.text(0, 42), -1);
         Calls.due("text 256", c.x.text(0, 256), -1);
         Calls.due("text of none", c.x.text(1, 0), -1);
         Calls.due("the second", trial(c, "run A.f()num"), 1);
@@ -46,9 +49,28 @@ public final class TrialsTest {
         Calls.due("meets of none", c.x.meets(2), -1);
         Calls.due("finds of none", c.x.finds(2, 0), -1);
         Calls.due("breaks", c.x.finds(0, -1), -1);
-        trial(c, ("# " + "x".repeat(50) + "|").repeat(4) + "class " + "A".repeat(12) + " : Thing # " + "y".repeat(250) + "|end|run A.f()num");
-        Calls.due("byte 255", c.x.text(2, 255), 'y');
-        Calls.due("byte 256 is not told", c.x.text(2, 256), -1);
+    }
+
+    private static void toldToItsEnd() {
+        Calls c = new Calls();
+        trial(c, ("# " + "x".repeat(50) + "|").repeat(4) + "class " + "A".repeat(12) + " : Thing # " + "y".repeat(250) + "z|end|run A.f()num");
+        Calls.due("byte 255", c.x.text(0, 255), 'y');
+        Calls.due("byte 256", c.x.text(0, 256), 'y');
+        Calls.due("the line's last", c.x.text(0, 279), 'z');
+        Calls.due("its 10", c.x.text(0, 280), 10);
+        Calls.due("the text's last", c.x.text(0, 297), 10);
+        Calls.due("behind it", c.x.text(0, 298), -1);
+        String longest = "x" + " ".repeat(1200 - "x|run A.f()num".length()) + "|run A.f()num";
+        Calls.due("1200 bytes", trial(c, longest), 1);
+        Calls.due("the last that was fed", c.x.text(1, 1199), 'm');
+        Calls.due("its last line has a 10, too", c.x.text(1, 1200), 10);
+        Calls.due("behind all", c.x.text(1, 1201), -1);
+        Calls.due("far behind", c.x.text(1, Integer.MAX_VALUE), -1);
+        Calls.due("least", c.x.text(1, Integer.MIN_VALUE), -1);
+        trial(c, "x #" + "\u0080\u00ff\u0000".repeat(100) + "|run A.f()num");
+        Calls.due("128 without a sign", c.x.text(2, 3), 128);
+        Calls.due("255 without a sign", c.x.text(2, 301), 255);
+        Calls.due("0", c.x.text(2, 302), 0);
     }
 
     private static void refused() {
