@@ -64,6 +64,34 @@ public final class Calls {
         }
     }
 
+    /** A text, | for a line's end, is refused in a new world for this rule; where ^ stands is its place. */
+    public static void refused(int rule, String told) {
+        Calls c = new Calls();
+        c.x.world(0);
+        c.refusedIn(0, rule, told);
+        due("nothing came of " + told, c.x.classes(0), 0);
+    }
+
+    public void refusedIn(int world, int rule, String told) {
+        due(told, define(world, told.replace("^", "").replace('|', '\n')), -10 - rule);
+        due("place of " + told, x.place(), told.indexOf('^'));
+        due("the tape is empty behind " + told, x.count(2), 0);
+    }
+
+    /** A text, | for a line's end, brings so many classes into a new world. */
+    public static Calls good(int classes, String told) {
+        Calls c = new Calls();
+        c.x.world(0);
+        c.goodIn(0, classes, told);
+        return c;
+    }
+
+    public void goodIn(int world, int classes, String told) {
+        due(told, define(world, told.replace('|', '\n')), classes);
+        due("place of " + told, x.place(), -2);
+        due("the tape is empty behind " + told, x.count(2), 0);
+    }
+
     public static void end() {
         System.out.println(asked + " answers asked, " + wrong + " wrong");
         if (wrong != 0 || asked == 0) {
