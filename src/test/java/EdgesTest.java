@@ -207,8 +207,8 @@ public final class EdgesTest {
 
     private static void manyWorlds() {
         Calls c = new Calls();
-        for (int i = 0; i < 100; i++) {
-            Calls.due("world", c.x.world(i), 0);
+        for (int i = 0; i < 25; i++) {
+            Calls.due("world", c.x.world(10 * i), 0);
             c.define(0, "class A : Thing", "method static f()num", "room 1 0", "num " + i, "ndone", "end");
             c.call(0, 0, "A.f()num");
             Calls.due("step", c.x.step(0, 10), 0);
@@ -218,7 +218,7 @@ public final class EdgesTest {
             Calls.due("started", c.x.started(0, 0), 21);
             Calls.due("drop", c.x.drop(0), 1);
         }
-        Calls.due("steps left", c.x.count(1), 60000 - 200);
+        Calls.due("steps left", c.x.count(1), 60000 - 50);
     }
 
     /** 58 is asked at once of what static and special name, before null; of others behind null. */

@@ -101,6 +101,8 @@ public final class TextBoundsTest {
         c.tape("#".repeat(5979) + "\nclass A : Thing\nend\n");
         Calls.due("6000 bytes", c.x.count(2), 6000);
         Calls.due("are taken", c.x.define(0), 1);
+        c = new Calls();
+        c.x.world(0);
         c.tape("#".repeat(5982) + "\nclass B : Thing\n@");
         Calls.due("refused at the 6000th byte", c.x.define(0), -11);
         Calls.due("its place", c.x.place(), 5999);

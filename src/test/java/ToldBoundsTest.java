@@ -1,6 +1,3 @@
-import java.util.ArrayList;
-import java.util.List;
-
 /** Sections 9, 11, 12, 14 and 15 and promises 4, 5 and 9 to 12: what is written, foretold, asked, traced, counted, collected, compared, reached. */
 public final class ToldBoundsTest {
     private static final String MAKE = "|method <make>()none|room 1 1|rload 0|special Thing.<make>()none|done";
@@ -52,11 +49,11 @@ public final class ToldBoundsTest {
     }
 
     private static void written(String told, String due) {
+        String text = due.replace('|', '\n') + "\n";
         Calls c = new Calls();
         c.x.world(7);
         c.goodIn(0, 1, told);
-        String text = due.replace('|', '\n') + "\n";
-        Calls.same(told, c.print(0, 21), text);
+        Calls.same(told, printed(told), text);
         Calls.due("its length", c.x.print(0, 21), text.length());
         Calls.due("its last byte", c.x.written(text.length() - 1), 10);
         Calls.due("behind it", c.x.written(text.length()), -1);
@@ -64,11 +61,27 @@ public final class ToldBoundsTest {
         // read in a world without it it is the same class
         c.x.world(7);
         c.goodIn(1, 1, due);
-        Calls.same("again " + told, c.print(1, 21), text);
+        Calls.same("again " + told, printed(due), text);
         for (int what = 0; what < 4; what++) {
             Calls.due("no difference " + what, c.x.differ(0, 21, 1, 21, what), 0);
             Calls.due("nor back " + what, c.x.differ(1, 21, 0, 21, what), 0);
         }
+    }
+
+    /** The class of a text as it is WRITTEN, 200 bytes from one object: a call tells one byte. */
+    private static String printed(String told) {
+        StringBuilder s = new StringBuilder();
+        int size = 1;
+        while (s.length() < size) {
+            Calls c = new Calls();
+            c.x.world(7);
+            c.define(0, told.replace('|', '\n'));
+            size = c.x.print(0, 21);
+            for (int i = 0; i < 200 && s.length() < size; i++) {
+                s.append((char) c.x.written(s.length()));
+            }
+        }
+        return s.toString();
     }
 
     /** "one blank between words, none in front of , ; : ( ) . and none behind ( and . ; lines end with 10". */
@@ -857,29 +870,23 @@ public final class ToldBoundsTest {
         reached(c, 21, 0, 2100, 2102, 2101, 2103, 2104, 2105);
         reached(c, 21, 3, 2103, 2104, 2100, 2105, 2102, 2101);
         reached(c, 21, 5, 2105);
-        // as many as there can be: each of 12 methods of 30 classes
+        // each of 12 methods of 8 classes, one by the other
         Calls all = new Calls();
         all.x.world(0);
-        StringBuilder[] texts = {new StringBuilder(), new StringBuilder(), new StringBuilder(), new StringBuilder()};
-        for (int k = 0; k < 30; k++) {
-            StringBuilder s = texts[k / 8];
-            s.append("class C").append(k).append(":Thing\n");
+        StringBuilder text = new StringBuilder();
+        for (int k = 0; k < 8; k++) {
+            text.append("class C").append(k).append(":Thing\n");
             for (int m = 0; m < 12; m++) {
                 int next = 12 * k + m + 1;
-                s.append("method static m").append(m).append("()none\nroom 0 0\n").append(next < 360 ? "static C" + next / 12 + ".m" + next % 12 + "()none\n" : "").append("done\n");
+                text.append("method static m").append(m).append("()none\nroom 0 0\n").append(next < 96 ? "static C" + next / 12 + ".m" + next % 12 + "()none\n" : "").append("done\n");
             }
-            s.append("end\n");
+            text.append("end\n");
         }
-        for (StringBuilder s : texts) {
-            Calls.due("a text", all.define(0, s.toString()) > 0 ? 1 : 0, 1);
+        Calls.due("a text", all.define(0, text.toString()), 8);
+        Calls.due("all", all.x.reach(0, 21, 0), 96);
+        for (int i = 0; i < 96; i++) {
+            Calls.due("reached " + i, all.x.reached(i), 100 * (21 + i / 12) + i % 12);
         }
-        Calls.due("all", all.x.reach(0, 21, 0), 360);
-        Calls.due("the last one", all.x.reached(359), 5011);
-        Calls.due("no more", all.x.reached(360), -2);
-        List<Integer> seen = new ArrayList<>();
-        for (int i = 0; i < 60; i++) {
-            seen.add(all.x.reached(6 * i));
-            Calls.due("reached " + 6 * i, seen.get(i), 100 * (21 + i / 2) + 6 * (i % 2));
-        }
+        Calls.due("no more", all.x.reached(96), -2);
     }
 }

@@ -167,6 +167,11 @@ public final class TrialsTest {
         trial(c, HIDDEN);
         for (int b = 0; b < 256; b++) {
             Calls.due("finds 4 with " + b, c.x.finds(0, b), b & 1);
+        }
+        c = new Calls();
+        trial(c, FINAL);
+        trial(c, HIDDEN);
+        for (int b = 0; b < 256; b++) {
             Calls.due("finds 53 with " + b, c.x.finds(1, b), b >> 5 & 1);
         }
         Calls.due("with it", c.x.outcome(1, 32, 0), 2);
