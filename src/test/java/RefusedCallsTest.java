@@ -22,6 +22,9 @@ public final class RefusedCallsTest {
     private static List<Integer> due;
 
     public static void main(String[] args) {
+        newObject();
+        placeOfTheLatest();
+        latestTold();
         inAllStates(built());
         due = state(built());
         worldCalls();
@@ -370,6 +373,103 @@ public final class RefusedCallsTest {
         for (int what : new int[] {-1, 3, LEAST, MOST}) {
             bad("count " + what, x -> x.count(what));
         }
+    }
+
+    /** "An empty TAPE, no worlds, no trials": all calls of a new object. */
+    private static void newObject() {
+        ClassWorks x = new ClassWorks();
+        for (int w = 0; w < 3; w++) {
+            int[] bad = {x.drop(w), x.define(w), x.classes(w), x.told(w, 0, 0), x.name(w, 0, 0, -1, 0), x.member(w, 0, 0, 0), x.link(w, 0), x.checked(w, 0), x.call(w, 0), x.quantum(w, 50), x.halt(w), x.step(w, 1), x.run(w, 0, 0),
+                x.started(w, 0), x.value(w, 0, false, 0), x.fixed(w, 0, 0), x.object(w, 1, -1), x.print(w, 21), x.kinds(w, 21, 0, false), x.foretell(w, 0, 0, 0), x.asked(w, 0), x.trace(w, 0, 0), x.done(w, 0), x.collect(w),
+                x.differ(w, 0, w, 0, 0), x.reach(w, 0, 0)};
+            for (int i = 0; i < bad.length; i++) {
+                Calls.due("call " + i + " of world " + w, bad[i], -1);
+            }
+        }
+        int[] none = {x.written(0), x.kind(0, 0), x.kind(0, -1), x.outcome(0, 0, 0), x.meets(0), x.finds(0, 0), x.shrink(0, 0), x.change(0, 0, 0, 0), x.text(0, 0), x.cut(1), x.count(3)};
+        for (int i = 0; i < none.length; i++) {
+            Calls.due("call " + i + " without a trial", none[i], -1);
+        }
+        Calls.due("place", x.place(), -2);
+        Calls.due("reached", x.reached(0), -2);
+        Calls.due("the first hole", x.hole(0), 1);
+        Calls.due("least", x.least(), 0);
+        Calls.due("fewest", x.fewest(), 0);
+        Calls.due("trials", x.count(0), 0);
+        Calls.due("steps", x.count(1), 60000);
+        Calls.due("bytes", x.count(2), 0);
+        Calls.due("cut nothing", x.cut(0), 0);
+        Calls.due("no line", x.trial(), -11);
+        Calls.due("the TAPE's length", x.place(), 0);
+        Calls.due("the first world", x.world(0), 0);
+        Calls.due("no text", x.define(0), 0);
+        Calls.due("taken", x.place(), -2);
+    }
+
+    /** place(): of "the latest define(), call(), asked() or trial() that took the TAPE"; NO when it was not refused. */
+    private static void placeOfTheLatest() {
+        String[] bad = {" x", "  x", "   5", "    run x"};
+        String[] good = {"class % : Thing\nend", "A.f()num", "Thing.f()num", "run A.f()num"};
+        for (int first = 0; first < 4; first++) {
+            for (int then = 0; then < 4; then++) {
+                Calls c = new Calls();
+                c.x.world(0);
+                c.tape(bad[first]);
+                Calls.due("refused " + first, take(c.x, first), -11);
+                int place = first == 3 ? 9 : first == 2 ? 3 : first == 1 ? 3 : 1;
+                Calls.due("its place", c.x.place(), place);
+                // what does not take the TAPE does not change it
+                c.tape(good[then].replace('%', 'B'));
+                Calls.due("no world", c.x.define(2) + c.x.call(2, 0) + c.x.asked(2, 0) + c.x.call(0, 3) + c.x.asked(0, 21), -5);
+                Calls.due("its place still", c.x.place(), place);
+                int answer = take(c.x, then);
+                Calls.due("taken " + then, answer == -152 ? 0 : Math.min(answer, 0), 0);
+                Calls.due("no place", c.x.place(), -2);
+                c.tape(bad[then]);
+                if (then == 1) {
+                    Calls.due("the thread is on", c.x.call(0, 0), -2);
+                    Calls.due("no place", c.x.place(), -2);
+                    c.x.halt(0);
+                }
+                Calls.due("refused " + then, take(c.x, then), -11);
+                Calls.due("a place again", c.x.place(), then == 3 ? 9 : then == 2 ? 3 : then == 1 ? 3 : 1);
+            }
+        }
+    }
+
+    private static int take(ClassWorks x, int way) {
+        return way == 0 ? x.define(0) : way == 1 ? x.call(0, 0) : way == 2 ? x.asked(0, 0) : x.trial();
+    }
+
+    /** written(), kind(), reached(): of the latest print(), kinds(), reach(), of whatever world. */
+    private static void latestTold() {
+        Calls c = new Calls();
+        c.x.world(0);
+        c.x.world(0);
+        c.define(0, "class A : Thing", "method static f(num)none", "room 1 1", "static A.g()none", "done", "method static g()none", "room 0 0", "done", "end");
+        c.define(1, "face class B : Thing", "method static f(row, num)none", "room 1 3", "null", "pop", "done", "end");
+        for (int round = 0; round < 2; round++) {
+            c.x.print(0, 21);
+            c.x.kinds(0, 21, 0, round == 0);
+            c.x.reach(0, 21, 0);
+            Calls.due("A is written", c.x.written(0), 'c');
+            Calls.due("its kinds", c.x.kind(1, 0), 0);
+            Calls.due("no local 1", c.x.kind(1, 1), -1);
+            Calls.due("two instructions", c.x.kind(2, 0), -1);
+            Calls.due("what it reaches", c.x.reached(1), 2101);
+            c.x.print(1, 21);
+            c.x.kinds(1, 21, 0, round == 0);
+            c.x.reach(1, 21, 0);
+            Calls.due("B is written", c.x.written(0), 'f');
+            Calls.due("its kinds", c.x.kind(2, 0), 1);
+            Calls.due("its locals", c.x.kind(2, 2), 3);
+            Calls.due("it reaches itself", c.x.reached(1), -2);
+        }
+        c.x.drop(1);
+        c.x.drop(0);
+        Calls.due("they stay", c.x.written(0), 'f');
+        Calls.due("they stay", c.x.kind(1, 20), 2);
+        Calls.due("they stay", c.x.reached(0), 2100);
     }
 
     /** FULL: a tape, worlds, steps, trials; and what is asked before that. */
