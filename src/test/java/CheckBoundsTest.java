@@ -31,6 +31,7 @@ public final class CheckBoundsTest {
         handlersAsk();
         handlersBehindActs();
         inferredHandlers();
+        inferredAgain();
         inferredWays();
         inferredRounds();
         Calls.end();
@@ -514,6 +515,9 @@ public final class CheckBoundsTest {
         both(0, "<make>()none", "1 1", "null|throw");
         both(41001, "<make>()none", "1 1", "num 1|ndone");
         both(0, "f()none", "0 1", "done");
+        // what was on the stack and is there no more does not count
+        both(0, "<make>()none", "3 1", "rload 0|dup|pop|special Q.<make>()none|null|done");
+        both(0, "<make>()none", "3 1", "rload 0|dup|pop|special Q.<make>()none|done");
     }
 
     /** special: of a <make> what stands below the arguments; of others whose class C is; 42. */
@@ -652,6 +656,17 @@ public final class CheckBoundsTest {
         Calls.due("local 19", c.x.kind(1, 19), -1);
         Calls.due("the stack is empty", c.x.kind(1, 20), -1);
         Calls.due("how many", c.x.kind(1, -1), 0);
+        c = world("method static f(num,row)none|room 5 3|num 1|null|null|sget X.f P|frame num, row; num, row, Thing, P|pop");
+        c.x.kinds(0, X_NUMBER, 0, false);
+        int[] stack = {0, 1, 100, 122};
+        Calls.due("four on the stack", c.x.kind(4, -1), 4);
+        for (int k = 0; k < 4; k++) {
+            Calls.due("on the stack " + k, c.x.kind(4, 20 + k), stack[k]);
+        }
+        int[] told = {0, 1, 3};
+        for (int k = 0; k < 3; k++) {
+            Calls.due("local " + k, c.x.kind(4, k), told[k]);
+        }
         c = world("method static f()none|room 20 20|" + "num 1|nstore 19|" + "num 2|".repeat(20) + "nop|done");
         Calls.due("full", c.x.kinds(0, X_NUMBER, 0, false), 0);
         Calls.due("local 19", c.x.kind(22, 19), 0);
@@ -685,6 +700,14 @@ public final class CheckBoundsTest {
             }
         }
         both(0, "static f()none", "1 1", "a: done|frame ;Fault|b: throw|handler a b b any");
+        // the instruction at the second LABEL stands in it no more: with frames, and frames aside
+        checked(0, "static f()none", "2 1", "num 1|nstore 0|a: nop|null|b: rstore 0|done|frame num;Fault|h: done|handler a b h any");
+        checked(37004, "static f()none", "2 1", "num 1|nstore 0|a: nop|null|rstore 0|b: done|frame num;Fault|h: done|handler a b h any");
+        for (int in = 0; in < 2; in++) {
+            Calls c = world("method static f()none|room 2 1|num 1|nstore 0|a: nop|null|" + (in == 0 ? "b: rstore 0|done" : "rstore 0|b: done") + "|h: done|handler a b h any");
+            Calls.due("frames aside", c.x.kinds(0, X_NUMBER, 0, true), 0);
+            Calls.due("local 0 at the handler", c.x.kind(6, 0), in == 0 ? 0 : 3);
+        }
         // till the end of the method
         checked(37001, "static f()none", "1 1", "a: done|frame ;row|b: done|handler b c b any|c:");
     }
@@ -774,6 +797,22 @@ public final class CheckBoundsTest {
         c = world("method <make>()none|room 2 1|rload 0|special Q.<make>()none|a: nop|b: done|h: throw|handler a b h any");
         Calls.due("behind it", c.x.kinds(0, X_NUMBER, 0, true), 0);
         Calls.due("X", c.x.kind(4, 0), 127);
+    }
+
+    /** kinds() tells the same each time, also of another method between. */
+    private static void inferredAgain() {
+        Calls c = world("method static f()none|room 1 1|jump M|L: pop|done|M: jump L|method static g()none|room 1 1|jump M|L: nop|nop|done|M: jump L");
+        for (int i = 0; i < 3; i++) {
+            Calls.due("a jump back to what breaks 31", c.x.kinds(0, X_NUMBER, 0, true), 31001);
+            Calls.due("its state was known", c.x.kind(1, -1), 0);
+            Calls.due("not what is behind it", c.x.kind(2, -1), -1);
+            Calls.due("with frames", c.x.kinds(0, X_NUMBER, 0, false), 36000);
+            Calls.due("only the first is known", c.x.kind(1, -1), -1);
+            if (i == 1) {
+                Calls.due("another method", c.x.kinds(0, X_NUMBER, 1, true), 0);
+                Calls.due("all is known", c.x.kind(3, -1), 0);
+            }
+        }
     }
 
     /** What goes where: joined on the stack, 37; another number, 37. */

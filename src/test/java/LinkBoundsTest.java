@@ -32,8 +32,12 @@ public final class LinkBoundsTest {
         makesFound();
         whichIsCalled();
         abstractOnes();
+        facesForObjects();
         classesFound();
         askedAnew();
+        thirtiethClass();
+        startsWithFewFrames();
+        foundToWait();
         Calls.end();
     }
 
@@ -829,6 +833,128 @@ public final class LinkBoundsTest {
         Calls.due("by I's abstract one", c.asked(0, 23, "W.b()num"), 2302);
         Calls.due("a Thing has none", c.asked(0, 0, "U.a()num"), -158);
         Calls.due("that it is below is not asked", c.asked(0, 23, "A.f()num"), -155);
+    }
+
+    /** With 5 broken faces may have what they else have not; static and private methods of faces are passed over for objects. */
+    private static void facesForObjects() {
+        // fget, fput of a face's field: 55 though it is not static
+        Calls c = world(2, "face class I : Thing|field x num|field static y num|end|class A : Thing, I|method static f()none|room 2 0|null|fget I.x num|pop|done|method static g()none|room 2 0|null|num 1|fput A.x num|done|method static h()none|room 2 0|num 1|sput A.y num|sget I.x num|pop|done|end");
+        fails(c, "A.f()none", 55, 15);
+        fails(c, "A.g()none", 55, 15);
+        fails(c, "A.h()none", 55, 15);
+        // <make> in C alone, not in its faces
+        c = world(2, "face class I : Thing|method <make>()none|room 0 1|frame unmade;|L: jump L|end|class C : Thing, I|method static f()none|room 2 0|new C|dup|special C.<make>()none|pop|done|end");
+        fails(c, "C.f()none", 52, 13);
+        // none is whole: the first is found, and asked 53
+        c = world(3, "face class I : Thing|method private abstract m()none|end|face class J : Thing|method abstract m()none|end|class C : Thing, I, J|end|class D : Thing, J, I|end|class A : Thing|method static f()none|room 1 0|null|call C.m()none|done|method static g()none|room 1 0|null|call D.m()none|done|end");
+        fails(c, "A.f()none", 53, 14);
+        fails(c, "A.g()none", 0, 2);
+        // for an object I's static one is passed over, though I comes first
+        String told = "face class I : Thing|method static m()num|room 1 0|num 1|ndone|end|face class J : Thing|method m()num|room 1 1|num 2|ndone|end|class P : Thing, J" + MAKE + "|end|class C : P, I" + MAKE.replace("Thing", "P") + "|end"
+            + "|class A : Thing|method static f()num|room 2 0|new C|dup|special C.<make>()none|call P.m()num|ndone|method static g()num|room 2 0|new C|dup|special C.<make>()none|facecall J.m()num|ndone|method static h()num|room 2 0|null|call C.m()num|ndone|end";
+        c = world(0, told);
+        number(c, "A.f()num", 2);
+        number(c, "A.g()num", 2);
+        fails(c, "A.h()num", 55, 15);
+        Calls.due("asked", c.asked(0, 24, "P.m()num"), 2200);
+        Calls.due("of a Thing", c.asked(0, 0, "P.m()num"), -158);
+        Calls.due("reached", c.x.reach(0, 25, 0), 4);
+        int[] due = {2500, 2400, 2200, 2300};
+        for (int i = 0; i < 4; i++) {
+            Calls.due("reached " + i, c.x.reached(i), due[i]);
+        }
+        // and a private one
+        c = world(2, told.replace("method static m()num|room 1 0", "method private m()num|room 1 1"));
+        number(c, "A.f()num", 2);
+        number(c, "A.g()num", 2);
+        fails(c, "A.h()num", 53, 14);
+        Calls.due("asked", c.asked(0, 24, "P.m()num"), 2200);
+    }
+
+    /** The last class that a world can have is one as others are. */
+    private static void thirtiethClass() {
+        Calls c = new Calls();
+        c.x.world(0);
+        StringBuilder told = new StringBuilder();
+        for (int i = 0; i < 28; i++) {
+            told.append("class C").append(i).append(":Thing").append(i == 0 ? MAKE : "").append("|end|");
+        }
+        c.goodIn(0, 28, told.toString());
+        c.goodIn(0, 2, "face class I : Thing|method m()num|room 1 1|num 4|ndone|end|class Z : C0, I|field static x num = 7|field y num" + MAKE.replace("Thing", "C0")
+            + "|method static <start>()none|room 2 0|sget Z.x num|num 1|add|sput Z.x num|done|method static f()num|room 3 1|new Z|dup|special Z.<make>()none|rstore 0|rload 0|is I|rload 0|is C0|add|rload 0|is Z|add|rload 0|is C1|add|ndone|method static g()num|room 1 0|sget Z.x num|ndone|end");
+        Calls.due("its number", c.x.told(0, 50, 0), 21);
+        Calls.due("it links", c.x.link(0, 50), 0);
+        number(c, "Z.g()num", 8);
+        number(c, "Z.f()num", 3);
+        Calls.due("STARTED", c.x.told(0, 50, 5), 2);
+        Calls.due("its object", c.x.object(0, 1, -1), 50);
+        Calls.due("what it takes", c.asked(0, 50, "Z.m()num"), 4900);
+        Calls.due("reach: its <start> is STARTED", c.x.reach(0, 50, 2), 3);
+        Calls.due("f", c.x.reached(0), 5002);
+        Calls.due("its <make>", c.x.reached(1), 5000);
+        Calls.due("C0's", c.x.reached(2), 2100);
+        // a class above that is not there is no class
+        String[] heads = {"class Z : Thing, Gone", "class Z : Gone", "face class Z : Thing, Gone", "class Z : Thing, I, Gone"};
+        int[] due = {2211, 2011, 2211, 2211};
+        for (int i = 0; i < heads.length; i++) {
+            c = new Calls();
+            c.x.world(0);
+            c.goodIn(0, 28, told.toString());
+            c.goodIn(0, 2, "face class I : Thing|end|" + heads[i] + "|end");
+            Calls.due(heads[i], c.x.link(0, 50), due[i]);
+            Calls.due("the first one", c.x.link(0, 21), 0);
+        }
+    }
+
+    /** For a <start> there has to be a frame; a class without one starts in the 40th frame, too. */
+    private static void startsWithFewFrames() {
+        String told = "class S : P|field static v num = 3|%|end|class P : Thing|end|class D : Thing|method static f(num)num|room 2 1|nload 0|if0 L|inc 0 -1|nload 0|static D.f(num)num|ndone|frame num;|L: sget S.v num|ndone|end";
+        Calls c = world(0, told.replace("|%", ""));
+        number(c, "D.f(num)num : 39", 3);
+        Calls.due("S STARTED", c.x.told(0, 21, 5), 2);
+        String start = "method static <start>()none|room 0 0|done";
+        c = world(0, told.replace("%", start));
+        number(c, "D.f(num)num : 38", 3);
+        c = world(0, told.replace("%", start));
+        fails(c, "D.f(num)num : 39", 0, 20);
+        Calls.due("S FAILED", c.x.told(0, 21, 5), 3);
+        Calls.due("P STARTED", c.x.told(0, 22, 5), 2);
+    }
+
+    /** run() tells 4 of a thread that was found to wait, not of one that was not looked at; a halt ends that. */
+    private static void foundToWait() {
+        String told = "class S : Thing|method static <start>()none|room 0 0|nop|nop|done|method static f()num|room 1 0|num 6|ndone|end";
+        Calls c = world(0, told + "|" + told.replace("class S", "class T"));
+        c.x.quantum(0, 1);
+        c.call(0, 1, "S.f()num");
+        c.call(0, 2, "S.f()num");
+        c.x.step(0, 1);
+        Calls.due("2 was not looked at", c.x.run(0, 2, 0), 1);
+        c.x.step(0, 1);
+        Calls.due("now it was", c.x.run(0, 2, 0), 4);
+        Calls.due("two are on", c.x.halt(0), 2);
+        c.call(0, 0, "T.f()num");
+        c.x.step(0, 1);
+        c.call(0, 2, "T.f()num");
+        Calls.due("a new run was not looked at", c.x.run(0, 2, 0), 1);
+        c.x.step(0, 1);
+        Calls.due("now it was", c.x.run(0, 2, 0), 4);
+        Calls.due("all", c.x.step(0, 99), 0);
+        Calls.due("it ended", c.x.run(0, 2, 3), 6);
+        // a thread that was halted in a start has none open then
+        c = world(0, told + "|class A : Thing|field static x num = 5|method static f()num|room 1 0|sget A.x num|ndone|method static bad()num|room 1 0|null|throw|end");
+        c.call(0, 1, "S.f()num");
+        c.x.step(0, 1);
+        c.x.halt(0);
+        Calls.due("S FAILED", c.x.told(0, 21, 5), 3);
+        c.call(0, 1, "A.f()num");
+        Calls.due("another run", c.x.step(0, 99), 0);
+        Calls.due("its number", c.x.run(0, 1, 3), 5);
+        c.call(0, 1, "A.bad()num");
+        c.x.step(0, 99);
+        Calls.due("what it throws is thrown as it is", c.x.run(0, 1, 4), 2);
+        Calls.due("S FAILED still", c.x.told(0, 21, 5), 3);
+        Calls.due("A STARTED", c.x.told(0, 22, 5), 2);
     }
 
     /** C of new: 50, it is linked, 57; C of cast, is: 50, no more. */

@@ -465,6 +465,12 @@ public final class RefusedCallsTest {
             Calls.due("its locals", c.x.kind(2, 2), 3);
             Calls.due("it reaches itself", c.x.reached(1), -2);
         }
+        // linking checks A, but tells no KINDS; nor do differ() and foretell() write or reach
+        Calls.due("A links", c.x.link(0, 21), 0);
+        c.x.differ(0, 21, 1, 21, 3);
+        c.x.foretell(0, 21, 0, 0);
+        Calls.due("its kinds", c.x.kind(2, 0), 1);
+        Calls.due("three", c.x.kind(3, 0), -1);
         c.x.drop(1);
         c.x.drop(0);
         Calls.due("they stay", c.x.written(0), 'f');

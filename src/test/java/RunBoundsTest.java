@@ -35,6 +35,8 @@ public final class RunBoundsTest {
         halts();
         worldsAreNew();
         valuesTold();
+        valuesOfFields();
+        builtInMakes();
         Calls.end();
     }
 
@@ -284,6 +286,14 @@ public final class RunBoundsTest {
         for (int[] one : due) {
             number(one[2], "num " + one[0] + "|pick " + one[1] + three);
         }
+        // each pick has its own LABELS
+        String two = "frame;|A: num 0|pick 5 B, C, D|frame ;|C: num 1|ndone|frame;|B: num 2|ndone|frame num, row; row, null|E: jump E|frame;|D: num 7|pick 6 B, F, C|frame;|F: num 8|pick 8 G, B|frame;|G: num 4";
+        number(4, two);
+        number(2, two.replace("num 8", "num 9"));
+        number(1, two.replace("num 0", "num 6"));
+        number(2, two.replace("num 0", "num 5"));
+        number(1, two.replace("num 7", "num 8").replace("F: num 8", "F: num 0"));
+        number(2, two.replace("D: num 7", "D: num 6"));
         for (int v : new int[] {MIN, -1, 0, 1, MAX}) {
             number(10, "num " + v + "|pick 0 L|frame;|L: num 10");
             number(v == 0 ? 11 : 10, "num " + v + "|pick 0 M, L|frame;|L: num 10|ndone|frame;|M: num 11");
@@ -890,7 +900,7 @@ public final class RunBoundsTest {
     /** A world that is made where another one was has nothing of that. */
     private static void worldsAreNew() {
         Calls c = new Calls();
-        String told = "class A : Thing|field static x num = 3|field static o row|method static f()none|room 2 1|handler a b h any|num 4|sput A.x num|num 2|newrow|dup|sput A.o row|enter|a: null|size|pop|b: done|frame;Fault|h: enter|nop|done|end"
+        String told = "class A : Thing|field static x num = 3|field static o row|method static f()none|room 2 1|handler a b h any|num 4|sput A.x num|num 2|newrow|dup|sput A.o row|enter|num 3|newrow|pop|a: null|size|pop|b: done|frame;Fault|h: enter|nop|done|end"
             + "|class Bad : Thing|method static f()none|room 1 0|nop|pop|done|end";
         for (int i = 0; i < 3; i++) {
             Calls.due("world", c.x.world(0), 0);
@@ -902,7 +912,10 @@ public final class RunBoundsTest {
             Calls.due("started", c.x.started(0, 0), -1);
             Calls.due("counts", c.x.done(0, 1) + c.x.done(0, 49), 0);
             Calls.due("quantum", c.x.quantum(0, 9), 50);
-            Calls.due("no run", c.x.run(0, 1, 0), -2);
+            for (int t = 0; t < 3; t++) {
+                Calls.due("no run", c.x.run(0, t, 0), -2);
+                Calls.due("no steps", c.x.run(0, t, 1) + c.x.run(0, t, 6), 0);
+            }
             Calls.due("step", c.x.step(0, 9), -2);
             Calls.due("objects", c.x.run(0, 0, 10) + c.x.run(0, 0, 11) + c.x.run(0, 0, 12) + c.x.run(0, 0, 13), 0);
             Calls.due("object", c.x.object(0, 1, -1), -1);
@@ -911,11 +924,13 @@ public final class RunBoundsTest {
             Calls.due("x", c.x.fixed(0, 21, 0), 0);
             if (i < 2) {
                 Calls.due("Bad", c.x.link(0, 22), 3117);
-                c.call(0, 1, "A.f()none");
-                Calls.due("run", c.x.step(0, 11), 1);
+                c.call(0, i, "A.f()none");
+                Calls.due("run", c.x.step(0, 14), 1);
                 Calls.due("its row", c.x.object(0, 1, -2), 1);
+                Calls.due("another one", c.x.object(0, 2, -3), 3);
+                Calls.due("no more", c.x.object(0, 3, -3), -1);
                 Calls.due("x", c.x.fixed(0, 21, 0), 4);
-                Calls.due("present", c.x.run(0, 0, 13), 1);
+                Calls.due("present", c.x.run(0, 0, 13), i);
                 Calls.due("dropped with a thread on", c.x.drop(0), 2);
             }
         }
@@ -938,5 +953,55 @@ public final class RunBoundsTest {
         Calls.due("no fifth", c.x.value(0, 0, false, 4), -1);
         Calls.due("its class", c.x.object(0, 2, -1), 21);
         Calls.due("a row", c.x.object(0, 1, -1), -2);
+    }
+
+    /** Numbers and references of fields are what they are on the stack, in locals and in fields, however great. */
+    private static void valuesOfFields() {
+        Calls c = world("class P : Thing|field pn num|field pf Fault|field static sn num|field static sf Fault|field pr row" + MAKE + "|end|class A : P|field n num|field f Fault|field r Thing|field static an num|field static ar Thing|method <make>()none|room 1 1|rload 0|special P.<make>()none|done"
+            + "|method static f()none|room 9 5|handler a b h any|a: null|size|pop|b: done|frame;Fault|h: dup|sput A.sf Fault|rstore 0|num 2|newrow|rstore 1|new A|dup|special A.<make>()none|rstore 2|rload 2|num 5000|fput P.pn num|rload 2|rload 0|fput P.pf Fault|rload 2|rload 1|fput P.pr row"
+            + "|rload 2|num -7|fput A.n num|rload 2|rload 0|fput A.f Fault|rload 2|rload 2|fput A.r Thing|num 2147483647|sput A.sn num|num 1001|sput A.an num|rload 2|sput A.ar Thing|num 1001|nstore 3|nload 3|nstore 4|rload 2|fget P.pn num|rload 2|fget P.pf Fault|rload 2|fget P.pr row|rload 2|fget A.n num"
+            + "|rload 2|fget A.r Thing|sget A.sn num|sget A.sf Fault|sget A.an num|sget A.ar Thing|nop|done|end");
+        c.call(0, 0, "A.f()none");
+        for (int i = 0; i < 150 && c.x.value(0, 0, true, 8) == -1; i++) {
+            c.x.step(0, 1);
+        }
+        int[] stack = {2, 1001, 0, MAX, 2, -7, 1, 0, 5000};
+        for (int i = 0; i < stack.length; i++) {
+            Calls.due("on the stack " + i, c.x.value(0, 0, true, i), stack[i]);
+        }
+        int[] locals = {0, 1, 2, 1001, 1001};
+        for (int i = 0; i < locals.length; i++) {
+            Calls.due("local " + i, c.x.value(0, 0, false, i), locals[i]);
+        }
+        int[] fields = {5000, 0, 1, -7, 0, 2};
+        for (int i = 0; i < fields.length; i++) {
+            Calls.due("field " + i, c.x.object(0, 2, i), fields[i]);
+        }
+        Calls.due("no more fields", c.x.object(0, 2, fields.length), -1);
+        int[] fixed = {-1, -1, MAX, 0, -1};
+        for (int k = 0; k < fixed.length; k++) {
+            Calls.due("fixed " + k, c.x.fixed(0, 21, k), fixed[k]);
+        }
+        Calls.due("fixed", c.x.fixed(0, 22, 3), 1001);
+        Calls.due("fixed", c.x.fixed(0, 22, 4), 2);
+    }
+
+    /** A built-in <make> takes its object from the stack, and no more. */
+    private static void builtInMakes() {
+        Calls c = world("class A : Thing|method static f()none|room 9 1|num 7|new Thing|dup|special Thing.<make>()none|num 8|new Fault|special Fault.<make>()none|nop|done|end");
+        c.call(0, 0, "A.f()none");
+        c.x.step(0, 4);
+        Calls.due("the object", c.x.value(0, 0, true, 0), 1);
+        Calls.due("7 below it", c.x.value(0, 0, true, 1), 7);
+        Calls.due("no more", c.x.value(0, 0, true, 2), -1);
+        Calls.due("one frame", c.x.run(0, 0, 6), 1);
+        Calls.due("it goes on", c.x.run(0, 0, 9), 4);
+        c.x.step(0, 3);
+        int[] due = {8, 1, 7};
+        for (int i = 0; i < 3; i++) {
+            Calls.due("then " + i, c.x.value(0, 0, true, i), due[i]);
+        }
+        Calls.due("no more", c.x.value(0, 0, true, 3), -1);
+        Calls.due("seven steps", c.x.run(0, 0, 1), 7);
     }
 }

@@ -36,6 +36,9 @@ public final class TextBoundsTest {
         leastOfOneLine();
         firstLine();
         nothingComes();
+        goodBehindRefused();
+        numbersAreNoWords();
+        signsOfMethods();
         brokenRules();
         Calls.end();
     }
@@ -367,6 +370,12 @@ public final class TextBoundsTest {
         // fields and methods in any order
         good(OPEN + "method f()none|room 0 1|done|field x num|method g()none|room 0 1|done|field y num|end");
         good("abstract class A : Thing|method abstract f()none|field x num|method abstract g()none|method h()none|room 0 1|done|end");
+        // a field or a method ends the one before: what is in a method can't stand behind it
+        for (int i : new int[] {3, 4, 5, 6, 7, 10}) {
+            refused(1, OPEN + "method g()none|room 1 1|nop|field x num|^" + lines[i] + "|end");
+            refused(1, OPEN + "method g()none|room 1 1|nop|field x num|field y num|^" + lines[i] + "|end");
+            refused(1, "abstract class A : Thing|method g()none|room 1 1|nop|method abstract h()none|^" + lines[i] + "|end");
+        }
         // the text's end before end, at its place
         refused(1, "class A : Thing^");
         refused(1, "class A : Thing|^");
@@ -939,6 +948,113 @@ public final class TextBoundsTest {
         c.goodIn(0, 1, "class E : D|end");
         Calls.due("D did not come", c.x.told(0, 24, 0), -2);
         Calls.due("so E does not link", c.x.link(0, 24), 2011);
+    }
+
+    /** A text that was refused leaves nothing for the next one. */
+    private static void goodBehindRefused() {
+        String[] bad = {body("a: nop|a: nop"), body("nop|frame ;"), body("frame ;|@"), body("frame num; row|nop|jump x"), body("a: nop|handler a a a any"), "class A : Thing|", OPEN + "method f()none|room 1 1|a: b: frame_: @", OPEN + "method f(num,num)none",
+            OPEN + "field x num|field x num|end", body("pick 1 a, b, c|a: nop"), "class A : A|end", OPEN + "method f()none|room 0 0|nop|end"};
+        String good = body("a: nop|jump a|frame ;|b: pick 7 a, b|c: nop|handler a b c any");
+        for (String one : bad) {
+            Calls c = new Calls();
+            c.x.world(0);
+            for (int i = 0; i < 2; i++) {
+                Calls.due("refused " + one, c.define(0, one.replace('|', '\n')) < -10 ? 1 : 0, 1);
+            }
+            c.goodIn(0, 1, good);
+            Calls.due("what a text has behind " + one, c.x.member(0, 21, 0, 4), 4);
+            Calls.same("it is as it was told", c.print(0, 21), "class A: Thing\n method static f() none\n  room 9 9\n  L0: nop\n  jump L0\n  frame;\n  L1: pick 7 L0, L1\n  L2: nop\n  handler L0 L1 L2 any\nend\n");
+        }
+    }
+
+    /** A NUMBER or a sign is no NAME, whatever it is. */
+    private static void numbersAreNoWords() {
+        for (int n = 0; n < 128; n++) {
+            refused(1, "^" + n + " A : Thing|end");
+            refused(1, "class ^" + n + " : Thing|end");
+            refused(1, "class A ^" + n + " Thing|end");
+            refused(1, "class A : B ^" + n + " C|end");
+            refused(1, OPEN + "^" + n + " x num|end");
+            refused(1, OPEN + "^" + n);
+            refused(1, OPEN + "field x ^" + n + "|end");
+            refused(1, OPEN + "field static x num ^" + n + " 1|end");
+            refused(1, OPEN + "method f ^" + n + " num)none|end");
+            refused(1, OPEN + "method f(num ^" + n + " num)none|end");
+            refused(1, OPEN + "method f(num ^" + n + " none|end");
+            refused(1, OPEN + "method f()none|^" + n + " 1 1|nop|end");
+            refused(1, body("^" + n));
+            refused(1, body("^" + n + " ;|nop"));
+            refused(1, body("frame num ^" + n + " row;|nop"));
+            refused(1, body("frame num ^" + n + "|nop"));
+            refused(1, body("call ^" + n + ".f()none"));
+            refused(1, body("call A ^" + n + " f()none"));
+            refused(1, body("call A.^" + n + "()none"));
+            refused(1, body("a: nop|^" + n + " a a a any"));
+            refused(1, body("nop|^" + n));
+        }
+        for (char sign : ":,;().=".toCharArray()) {
+            refused(1, "^" + sign + " A : Thing|end");
+            refused(1, "class ^" + sign + " : Thing|end");
+            refused(1, OPEN + "^" + sign + " x num|end");
+            refused(1, OPEN + "field ^" + sign + " num|end");
+            if (sign != ':') {
+                refused(1, body("num ^" + sign));
+                refused(1, body("new ^" + sign));
+                refused(1, body("jump ^" + sign));
+            }
+            refused(1, body("inc 1 ^" + sign));
+            refused(1, body("nop|^" + sign));
+        }
+        // an instruction is one of its 62 words, though many other names are known
+        StringBuilder many = new StringBuilder();
+        for (int i = 0; i < 60; i++) {
+            many.append("name").append(i).append(": ");
+        }
+        refused(1, body(many + "nop|^name61"));
+        refused(1, body(many + "nop|^unknown 1"));
+        refused(1, body(many + "^unknown L"));
+    }
+
+    /** Methods of one NAME are others by their types: all rows of up to six of num and row, in as many classes as they need. */
+    private static void signsOfMethods() {
+        Calls c = new Calls();
+        c.x.world(0);
+        String[] results = {"none", "num", "row", "A"};
+        int made = 0;
+        StringBuilder text = new StringBuilder();
+        StringBuilder[] due = new StringBuilder[11];
+        for (int n = 0; n <= 4; n++) {
+            for (int bits = 0; bits < 1 << n; bits++) {
+                for (String result : results) {
+                    int cls = made / 12;
+                    if (made % 12 == 0) {
+                        text.append(made == 0 ? "" : "end\n").append("abstract class C").append(cls).append(":P\n");
+                        due[cls] = new StringBuilder("abstract class C" + cls + ": P\n");
+                    }
+                    StringBuilder types = new StringBuilder();
+                    for (int i = 0; i < n; i++) {
+                        types.append(i == 0 ? "" : ", ").append((bits >> i & 1) == 0 ? "num" : "row");
+                    }
+                    text.append("method abstract f(").append(types.toString().replace(" ", "")).append(")").append(result).append("\n");
+                    due[cls].append(" method abstract f(").append(types).append(") ").append(result).append("\n");
+                    made++;
+                }
+            }
+        }
+        Calls.due("methods", made, 124);
+        Calls.due("classes", c.define(0, text + "end\n"), 11);
+        for (int k = 0; k < 11; k++) {
+            String told = due[k] + "end\n";
+            Calls.due("length of " + k, c.x.print(0, 21 + k), told.length());
+            for (int i = k; i < told.length(); i += 37) {
+                Calls.due("byte " + i + " of " + k, c.x.written(i), told.charAt(i));
+            }
+            for (int m = 0; m < (k < 10 ? 12 : 4); m += 5) {
+                int n = 12 * k + m;
+                int length = n < 4 ? 0 : n < 12 ? 1 : n < 28 ? 2 : n < 60 ? 3 : 4;
+                Calls.due("arguments of " + n, c.x.member(0, 21 + k, m, 1), length);
+            }
+        }
     }
 
     /** BREAKS 0, 1, 2: rules 4, 5, 6 are not asked, all others are. */

@@ -24,6 +24,8 @@ public final class ToldBoundsTest {
         countedThrows();
         reachedByRoots();
         leastFreeNumbers();
+        keptByCollected();
+        reachedByGot();
         collectedLocks();
         collectedFields();
         headsDiffer();
@@ -616,6 +618,95 @@ public final class ToldBoundsTest {
         }
     }
 
+    /** What stays keeps its fields and elements; what is made then has 0s. */
+    private static void keptByCollected() {
+        StringBuilder methods = new StringBuilder();
+        String[] names = {"a", "b", "c", "d"};
+        for (String n : names) {
+            methods.append("|field static ").append(n).append(" row");
+        }
+        for (String n : names) {
+            methods.append("|method static ").append(n).append("(num,num)none|room 3 2|nload 0|newrow|sput A.").append(n).append(" row|frame num, num;|L: inc 0 -1|sget A.").append(n).append(" row|nload 0|nload 1|put|inc 1 1|nload 0|ifg L|done|method static no").append(n)
+                .append("()none|room 1 0|null|sput A.").append(n).append(" row|done");
+        }
+        Calls c = world("class A : Thing" + methods + "|end");
+        String[] calls = {"a(num,num)none : 3, 10", "b(num,num)none : 2, 20", "c(num,num)none : 4, 30", "noa()none", "*", "d(num,num)none : 3, 40", "nob()none", "*", "a(num,num)none : 2, 50", "noc()none", "*", "c(num,num)none : 2, 60", "b(num,num)none : 1, 70"};
+        for (String one : calls) {
+            if (one.equals("*")) {
+                Calls.due("one goes", c.x.collect(0), 1);
+            } else {
+                c.call(0, 0, "A." + one);
+                Calls.due(one, c.x.step(0, 99), 0);
+            }
+        }
+        // d took the number of a, a that of b, c that of c, then b is the fourth
+        int[][] due = {{42, 41, 40}, {51, 50}, {61, 60}, {70}};
+        for (int r = 1; r <= 4; r++) {
+            Calls.due("elements of " + r, c.x.object(0, r, -3), due[r - 1].length);
+            for (int i = 0; i < due[r - 1].length; i++) {
+                Calls.due("element " + i + " of " + r, c.x.object(0, r, i), due[r - 1][i]);
+            }
+        }
+        Calls.due("in all", c.x.run(0, 0, 11), 8);
+        Calls.due("nothing more goes", c.x.collect(0), 0);
+        for (int r = 1; r <= 4; r++) {
+            for (int i = 0; i < due[r - 1].length; i++) {
+                Calls.due("element " + i + " of " + r + " still", c.x.object(0, r, i), due[r - 1][i]);
+            }
+        }
+        String[] none = {"noa()none", "nob()none", "noc()none", "nod()none"};
+        for (String one : none) {
+            c.call(0, 0, "A." + one);
+            c.x.step(0, 9);
+        }
+        Calls.due("all four", c.x.collect(0), 4);
+        // two elements are put, of five: the others are 0 where other ones stood
+        c = world("class A : Thing|field static a row|field static b row|method static fill()none|room 4 1|num 9|newrow|rstore 0|rload 0|num 0|num 1|put|rload 0|num 3|num 2|put|rload 0|num 8|num 3|put|done|method static keep()none|room 4 0|num 9|newrow|sput A.a row|done|end");
+        c.call(0, 0, "A.fill()none");
+        c.x.step(0, 99);
+        Calls.due("its element", c.x.object(0, 1, 8), 3);
+        c.x.collect(0);
+        for (int k = 0; k < 2; k++) {
+            c.call(0, 0, "A.keep()none");
+            c.x.step(0, 99);
+            for (int i = 0; i < 9; i++) {
+                Calls.due("0 again " + i, c.x.object(0, 1, i), 0);
+            }
+            c.call(0, 0, "A.fill()none");
+            c.x.step(0, 99);
+            c.x.collect(0);
+        }
+    }
+
+    /** What a reference was got from does not matter: it reaches, and a number does not. */
+    private static void reachedByGot() {
+        Calls c = world(BOX + "|method static f()none|room 9 1|static A.box()A|sput A.s Thing|static A.box()A|rstore 0|rload 0|static A.box()A|fput A.r Thing|rload 0|num 2|newrow|fput A.w row|rload 0|num 5|fput A.n num|num 6|sput A.m num|static A.box()A|pop|static A.box()A|pop"
+            + "|sget A.s Thing|null|sput A.s Thing|rload 0|fget A.r Thing|rload 0|fget A.w row|rload 0|fget A.n num|sget A.m num|null|rstore 0|nop|pop|pop|nop|pop|nop|pop|nop|pop|nop|done|end");
+        c.call(0, 0, "A.f()none");
+        for (int i = 0; i < 200 && c.x.value(0, 0, true, 4) == -1; i++) {
+            c.x.step(0, 1);
+        }
+        Calls.due("all are there", c.x.run(0, 0, 10), 6);
+        c.x.step(0, 3);
+        // 1 was static, 2 the local, 3 its field, 4 its row; 5 and 6 nothing but numbers
+        Calls.due("2, 5 and 6 go", c.x.collect(0), 3);
+        int[] there = {0, -1, 0, 0, -1, -1};
+        for (int r = 1; r <= 6; r++) {
+            Calls.due("object " + r, c.x.object(0, r, -2), there[r - 1]);
+        }
+        int[] stack = {6, 5, 4, 3, 1};
+        for (int i = 0; i < 5; i++) {
+            Calls.due("on the stack " + i, c.x.value(0, 0, true, i), stack[i]);
+        }
+        c.x.step(0, 3);
+        Calls.due("numbers go: nothing", c.x.collect(0), 0);
+        for (int i = 0; i < 3; i++) {
+            c.x.step(0, 2);
+            Calls.due("then one by one", c.x.collect(0), 1);
+        }
+        Calls.due("none", c.x.run(0, 0, 10), 0);
+    }
+
     private static void collectedLocks() {
         Calls c = world("class A : Thing|field static a row|method static in()none|room 2 0|num 3|newrow|dup|sput A.a row|enter|done|method static no()none|room 1 0|null|sput A.a row|done|method static make()none|room 1 0|num 2|newrow|sput A.a row|done|end");
         c.call(0, 1, "A.in()none");
@@ -759,6 +850,15 @@ public final class ToldBoundsTest {
         }
         differBoth(3, 1, "abstract class % : P|method abstract f()none|end", "abstract class % : P|method f()none|room 0 1|nop|end");
         differBoth(3, 0, "abstract class % : P|method abstract f()none|end", "face class % : P|method abstract f()none|end");
+        // a second method's handlers, frames and LABELS
+        String first = "class % : P|method e()none|room 3 1|x: nop|y: nop|z:|handler x y x A|handler y z y any|method f()none|room 1 1|";
+        String[] second = {"a: nop|b: nop|handler a b a any|handler a b b Fault", "a: nop|b: nop|handler a b a any|handler a b b Thing", "a: nop|b: nop|c:|handler a b a any|handler a c b Fault", "a: nop|b: nop|handler a b a any|handler a b a Fault",
+            "a: nop|b: nop|c:|handler a b a any|handler b c b Fault", "a: nop|b: nop|handler a b a Late|handler a b b Fault"};
+        for (int i = 0; i < second.length; i++) {
+            for (int k = 0; k < second.length; k++) {
+                differ(3, i == k ? 0 : 1, first + second[i] + "|end", first + second[k] + "|end");
+            }
+        }
         // those that d has not do not count
         differBoth(3, 1, "class % : P|method f()none|room 1 1|nop|method g()none|room 1 1|nop|method h()none|room 1 1|nop|end", "class % : P|method h()none|room 1 1|nop|method g()none|room 1 1|done|method k()none|room 1 1|done|end");
         Calls c = new Calls();
@@ -822,6 +922,11 @@ public final class ToldBoundsTest {
         reached(c, 30, 2, 3002, 2201, 2901);
         reached(c, 30, 3, 3003, 2400);
         reached(c, 30, 4, 3004, 2800);
+        // an abstract class and a face are not asked, though they have bodies of their own
+        Calls own = world("class B : Thing|method m()none|room 0 1|done|end|abstract class U : B|method m()none|room 0 1|done|end|face class I : Thing|method d()none|room 0 1|done|end|face class J : Thing, I|method d()none|room 0 1|done|end|class C : Thing, I|end"
+            + "|class A : Thing|method static f()none|room 1 0|null|call B.m()none|done|method static g()none|room 1 0|null|facecall I.d()none|done|end");
+        reached(own, 26, 0, 2600, 2100);
+        reached(own, 26, 1, 2601, 2300);
         Calls.due("what does not link was asked", c.x.told(0, 26, 6), 2011);
         Calls.due("this, too", c.x.told(0, 27, 6), 3117);
         Calls.due("none is started", c.x.told(0, 23, 5), 0);
@@ -841,6 +946,12 @@ public final class ToldBoundsTest {
             System.arraycopy(due[i], 0, all, 1, due[i].length);
             reached(c, 26, 0, all);
         }
+        // what is called of an object starts nothing, nor does special
+        Calls none = world("class B : Thing" + start + MAKE + "|method private h()none|room 0 1|done|method v()none|room 0 1|done|method static f()none|room 2 1|null|rstore 0|null|call B.v()none|done|method g()none|room 1 1|rload 0|special B.v()none|rload 0|call B.h()none|done"
+            + "|method static k()none|room 2 0|new B|special B.<make>()none|done|end");
+        reached(none, 21, 4, 2104, 2103);
+        reached(none, 21, 5, 2105, 2103, 2102);
+        reached(none, 21, 6, 2106, 2100, 2101);
         // STARTED ones are not, nor what is above them; FAILED ones are
         Calls c = world(lib.replace("%", "new C|pop|sget C.i num|pop"));
         c.call(0, 0, "C.t()none");

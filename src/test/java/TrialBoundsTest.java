@@ -210,6 +210,7 @@ public final class TrialBoundsTest {
         outcome(4, 2011, 0, "class A : Gone|method static f()num|room 1 0|num 1|ndone|end|" + RUN);
     }
 
+    private static final String OWN = "class E : Fault|method <make>()none|room 1 1|rload 0|special Fault.<make>()none|done|end|" + body("num", "new E|dup|special E.<make>()none|throw");
     private static final String AF = "|class A : Thing|method static f()num|room 3 2|";
     private static final String ENDS = "|num 1|ndone|end|" + RUN;
 
@@ -251,7 +252,7 @@ public final class TrialBoundsTest {
             Calls.due("kind", c.x.outcome(i % 10, 0, 0), 4);
         }
         String[] none = {body("num", "num 50|ndone"), body("num", "num 5011|ndone"), body("num", "null|throw"), body("none", "done"), body("row", "num 0|newrow|rdone"), "class A : Thing|method static f()num|room 1 0|frame ;|L: jump L|end|" + RUN,
-            body("num", "new LinkFault|dup|special LinkFault.<make>()none|throw")};
+            body("num", "new LinkFault|dup|special LinkFault.<make>()none|throw"), OWN};
         c = new Calls();
         for (int i = 0; i < none.length; i++) {
             trial(c, none[i]);
@@ -357,6 +358,16 @@ public final class TrialBoundsTest {
         Calls.due("the same number", c.x.outcome(1, 32, 1), c.x.outcome(1, 0, 1));
         Calls.due("of another kind", c.x.outcome(1, 32, 0) - c.x.outcome(1, 0, 0), -2);
         Calls.due("finds it", c.x.finds(1, 32), 1);
+        // by its kind alone: 0 of a number, 0 of one that is cut
+        c = new Calls();
+        trial(c, "class B : Thing|field private static x num|end" + AF + "handler a b h any|a: sget B.x num|pop|frame;|b: jump b|frame;Fault|h: pop|num 0|ndone|end|" + RUN);
+        Calls.due("the same number", c.x.outcome(0, 32, 1) + c.x.outcome(0, 0, 1), 0);
+        Calls.due("a number", c.x.outcome(0, 0, 0), 2);
+        Calls.due("cut", c.x.outcome(0, 32, 0), 5);
+        Calls.due("finds it", c.x.finds(0, 32), 1);
+        Calls.due("meets none", c.x.meets(0), 0);
+        Calls.due("it is wanted for that", c.x.fewest(), 1);
+        Calls.due("so it stays", c.x.least(), 1);
     }
 
     /** Stocks by chance: least and fewest as they are asked for by trying. */
@@ -539,6 +550,11 @@ public final class TrialBoundsTest {
         for (int i = 3; i < 6; i++) {
             shrunk(TEXTS[i] + "|" + RUN, 1 << i - 3);
         }
+        // an outcome is its kind and its number: without the handler it would be of another kind with this number
+        String kept = "class B : Thing|field private static x num|end" + AF + "nop|handler a b h any|a: sget B.x num|b: ndone|frame;Fault|h: pop|num 5314|ndone|end|" + RUN;
+        shrunk(kept, 0);
+        shrunk(kept, 32);
+        shrunk(kept.replace("5314", "5315"), 32);
         // what it finds is asked anew of the shrunk one
         Calls c = new Calls();
         trial(c, tries(1, "num 9|ndone"));
