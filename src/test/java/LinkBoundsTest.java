@@ -498,6 +498,8 @@ public final class LinkBoundsTest {
         c.call(0, 0, "A.f()num");
         c.x.step(0, 2);
         Calls.due("nothing is done behind the last step", c.x.told(0, 21, 5), 0);
+        Calls.due("it is not linked, either", c.x.told(0, 21, 6), 0);
+        Calls.due("nor is a start traced", c.x.trace(0, 3, 0), -2);
         c.x.step(0, 1);
         Calls.due("then the start begins", c.x.told(0, 21, 5), 1);
         Calls.due("in a frame", c.x.run(0, 0, 6), 2);

@@ -23,6 +23,7 @@ public final class RefusedCallsTest {
 
     public static void main(String[] args) {
         newObject();
+        allCalls();
         placeOfTheLatest();
         latestTold();
         inAllStates(built());
@@ -404,6 +405,44 @@ public final class RefusedCallsTest {
         Calls.due("the first world", x.world(0), 0);
         Calls.due("no text", x.define(0), 0);
         Calls.due("taken", x.place(), -2);
+    }
+
+    /** "An object is used for at most 512 calls": the last of them is answered as the first. */
+    private static void allCalls() {
+        Calls c = new Calls();
+        c.x.world(0);
+        int calls = 1;
+        String text = "class A%:Thing\nfield static x num=7\nmethod static f()num\nroom 1 0\nsget A%.x num\nndone\nend";
+        int feeds = (text.replace("%", "10").length() + 19) / 20 + 1;
+        for (int i = 10; i < 40; i++) {
+            Calls.due("class " + i, c.define(0, text.replace("%", "" + i)), 1);
+            Calls.due("call " + i, c.call(0, 0, "A" + i + ".f()num"), 0);
+            Calls.due("step " + i, c.x.step(0, 9), 0);
+            Calls.due("number " + i, c.x.run(0, 0, 3), 7);
+            calls += feeds + 1 + 3 + 2;
+        }
+        while (calls < 511) {
+            Calls.due("classes", c.x.classes(0), 30);
+            calls++;
+        }
+        Calls.due("the 512th", c.x.run(0, 0, 12), 30);
+        // the dearest ones
+        c = new Calls();
+        c.trial("class A : Thing", "method static f()num", "room 1 0", "frame ;", "L: jump L", "end", "run A.f()num");
+        calls = 7;
+        for (int t = 1; t < 40; t++) {
+            Calls.due("one more", c.x.change(0, 2, 0, 0), t);
+        }
+        for (int i = 0; i < 200; i++) {
+            Calls.due("cut", c.x.outcome(i % 40, i, 0), 5);
+        }
+        for (int i = 0; i < 50; i++) {
+            Calls.due("finds nothing", c.x.finds(i % 40, i), 0);
+            Calls.due("fewest", c.x.fewest(), 0);
+            Calls.due("holes", c.x.hole(43), 59);
+        }
+        Calls.due("shrunk: nothing can go", c.x.shrink(39, 255), 7);
+        Calls.due("least", c.x.least(), 0);
     }
 
     /** place(): of "the latest define(), call(), asked() or trial() that took the TAPE"; NO when it was not refused. */

@@ -810,6 +810,18 @@ public final class RunBoundsTest {
         run(c, 2, "in", 0);
         Calls.due("of an ended thread it is kept", c.x.object(0, 1, -2), 1);
         c.x.drop(0);
+        // of one that FAILED, too; and a thread that is begun anew has those that it had
+        c = world(LOCK.replace("|method static in()none", "|method static fail()none|room 2 0|sget K.o row|enter|null|throw|method static in()none"));
+        c.call(0, 0, "K.set()none");
+        c.x.step(0, 99);
+        run(c, 1, "fail", 0);
+        Calls.due("FAILED", c.x.run(0, 1, 0), 2);
+        Calls.due("its LOCKS are kept", c.x.object(0, 1, -2), 1);
+        run(c, 2, "in", 3);
+        run(c, 1, "out", 0);
+        Calls.due("left by the next run of the thread", c.x.object(0, 1, -2), 1);
+        Calls.due("2 has it", c.x.run(0, 2, 0), 0);
+        c.x.drop(0);
         // two that wait for one another
         c = locked();
         c.x.quantum(0, 3);
