@@ -36,6 +36,7 @@ public final class RunBoundsTest {
         worldsAreNew();
         valuesTold();
         valuesOfFields();
+        stacksOfFrames();
         builtInMakes();
         Calls.end();
     }
@@ -319,8 +320,8 @@ public final class RunBoundsTest {
         }
         fails(4, 0, "num 0|newrow|num 0|get|pop");
         fails(4, 0, "num 0|newrow|num 0|num 1|put");
-        Calls c = ran("none", "num 3|newrow|dup|sput A.s row|num 1|num 8|put|num 2|newrow|dup|num 0|num 9|put|pop|done");
-        int[] first = {0, 8, 0};
+        Calls c = ran("none", "num 3|newrow|dup|sput A.s row|num 1|num 8000|put|num 2|newrow|dup|num 0|num 9|put|pop|done");
+        int[] first = {0, 8000, 0};
         for (int i = 0; i < 3; i++) {
             Calls.due("element " + i, c.x.object(0, 1, i), first[i]);
         }
@@ -969,7 +970,7 @@ public final class RunBoundsTest {
 
     /** Numbers and references of fields are what they are on the stack, in locals and in fields, however great. */
     private static void valuesOfFields() {
-        Calls c = world("class P : Thing|field pn num|field pf Fault|field static sn num|field static sf Fault|field pr row" + MAKE + "|end|class A : P|field n num|field f Fault|field r Thing|field static an num|field static ar Thing|method <make>()none|room 1 1|rload 0|special P.<make>()none|done"
+        Calls c = world("class Z : Thing|field a Thing|field b num|field c num|field d row|field e num|field f num|end|class P : Thing|field pn num|field pf Fault|field static sn num|field static sf Fault|field pr row" + MAKE + "|end|class A : P|field n num|field f Fault|field r Thing|field static an num|field static ar Thing|method <make>()none|room 1 1|rload 0|special P.<make>()none|done"
             + "|method static f()none|room 9 5|handler a b h any|a: null|size|pop|b: done|frame;Fault|h: dup|sput A.sf Fault|rstore 0|num 2|newrow|rstore 1|new A|dup|special A.<make>()none|rstore 2|rload 2|num 5000|fput P.pn num|rload 2|rload 0|fput P.pf Fault|rload 2|rload 1|fput P.pr row"
             + "|rload 2|num -7|fput A.n num|rload 2|rload 0|fput A.f Fault|rload 2|rload 2|fput A.r Thing|num 2147483647|sput A.sn num|num 1001|sput A.an num|rload 2|sput A.ar Thing|num 1001|nstore 3|nload 3|nstore 4|rload 2|fget P.pn num|rload 2|fget P.pf Fault|rload 2|fget P.pr row|rload 2|fget A.n num"
             + "|rload 2|fget A.r Thing|sget A.sn num|sget A.sf Fault|sget A.an num|sget A.ar Thing|nop|done|end");
@@ -992,10 +993,34 @@ public final class RunBoundsTest {
         Calls.due("no more fields", c.x.object(0, 2, fields.length), -1);
         int[] fixed = {-1, -1, MAX, 0, -1};
         for (int k = 0; k < fixed.length; k++) {
-            Calls.due("fixed " + k, c.x.fixed(0, 21, k), fixed[k]);
+            Calls.due("fixed " + k, c.x.fixed(0, 22, k), fixed[k]);
         }
-        Calls.due("fixed", c.x.fixed(0, 22, 3), 1001);
-        Calls.due("fixed", c.x.fixed(0, 22, 4), 2);
+        Calls.due("fixed", c.x.fixed(0, 23, 3), 1001);
+        Calls.due("fixed", c.x.fixed(0, 23, 4), 2);
+    }
+
+    /** A frame's stack is empty when it begins, whatever stood there when another one ended. */
+    private static void stacksOfFrames() {
+        Calls c = world("class A : Thing|method static g()none|room 5 1|nop|num 1|num 2|num 3|done|method static h()num|room 5 1|nop|num 4|num 5|num 6|ndone|method static t()none|room 5 1|nop|num 7|num 8|null|throw"
+            + "|method static f()none|room 5 1|handler a b x any|num 9|static A.g()none|static A.g()none|static A.h()num|pop|a: static A.t()none|b: nop|done|frame;Fault|x: pop|static A.g()none|done|end");
+        c.call(0, 0, "A.f()none");
+        // nop of g, of g, of h, of t and of g; then where f goes on
+        int[] steps = {3, 6, 6, 7, 7};
+        for (int i = 0; i < steps.length; i++) {
+            c.x.step(0, steps[i]);
+            Calls.due("two frames at " + i, c.x.run(0, 0, 6), 2);
+            Calls.due("its first instruction is done at " + i, c.x.run(0, 0, 9), 1);
+            Calls.due("nothing on the stack at " + i, c.x.value(0, 0, true, 0), -1);
+            Calls.due("the local at " + i, c.x.value(0, 0, false, 0), 0);
+        }
+        c.x.step(0, 4);
+        Calls.due("back in f", c.x.run(0, 0, 6), 1);
+        Calls.due("its stack: what was thrown is popped", c.x.value(0, 0, true, 0), -1);
+        c.x.step(0, 1);
+        Calls.due("ended", c.x.run(0, 0, 0), 0);
+        c.call(0, 0, "A.g()none");
+        c.x.step(0, 1);
+        Calls.due("a run's first frame, too", c.x.value(0, 0, true, 0), -1);
     }
 
     /** A built-in <make> takes its object from the stack, and no more. */

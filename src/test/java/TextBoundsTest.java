@@ -39,6 +39,7 @@ public final class TextBoundsTest {
         goodBehindRefused();
         numbersAreNoWords();
         signsOfMethods();
+        typesOfMethods();
         brokenRules();
         Calls.end();
     }
@@ -1013,6 +1014,44 @@ public final class TextBoundsTest {
         refused(1, body(many + "nop|^name61"));
         refused(1, body(many + "nop|^unknown 1"));
         refused(1, body(many + "^unknown L"));
+    }
+
+    /** A NAME of two letters, by its number. */
+    private static String two(int n) {
+        return "" + (char) ('a' + n / 26) + (char) ('a' + n % 26);
+    }
+
+    /** 264 methods of one NAME, each of another type, or of another result, and in each class one of none. */
+    private static void typesOfMethods() {
+        for (int part = 0; part < 6; part++) {
+            boolean results = part > 2;
+            Calls c = new Calls();
+            c.x.world(0);
+            for (int half = 0; half < 2; half++) {
+                StringBuilder text = new StringBuilder();
+                for (int k = 12 * half; k < 12 * half + 12; k++) {
+                    text.append("face class C").append(k).append(":Thing|");
+                    for (int m = 0; m < 11; m++) {
+                        String one = two(11 * k + m);
+                        text.append("method abstract f(").append(results ? "" : one).append(")").append(results ? one : "num").append('|');
+                    }
+                    text.append("method abstract f()num|end|");
+                }
+                c.goodIn(0, 12, text.toString());
+            }
+            // what is told of a third of them
+            for (int k = part % 3; k < 24; k += 9) {
+                c.x.print(0, 21 + k);
+                int at = ("face class C" + k + ": Thing\n").length();
+                for (int m = 0; m < 11; m++) {
+                    int name = at + (results ? " method abstract f() ".length() : " method abstract f(".length());
+                    Calls.due("first letter", c.x.written(name), two(11 * k + m).charAt(0));
+                    Calls.due("second letter", c.x.written(name + 1), two(11 * k + m).charAt(1));
+                    at += results ? " method abstract f() ab\n".length() : " method abstract f(ab) num\n".length();
+                }
+                Calls.due("without types", c.x.written(at + " method abstract f(".length()), ')');
+            }
+        }
     }
 
     /** Methods of one NAME are others by their types: all rows of up to six of num and row, in as many classes as they need. */

@@ -634,6 +634,15 @@ public final class ToldBoundsTest {
         for (String one : calls) {
             if (one.equals("*")) {
                 Calls.due("one goes", c.x.collect(0), 1);
+                for (int k = 0; k < 4; k++) {
+                    int r = c.x.fixed(0, 21, k);
+                    int first = c.x.object(0, r, 0);
+                    for (int i = 1; i < 4 && c.x.object(0, r, i) != -1; i++) {
+                        Calls.due("element " + i + " of field " + k, c.x.object(0, r, i), first - i);
+                    }
+                    // a has 10s or 50s, b 20s, c 30s, d 40s
+                    Calls.due("its tens", r == 0 ? (k + 1) % 4 : first / 10 % 4, (k + 1) % 4);
+                }
             } else {
                 c.call(0, 0, "A." + one);
                 Calls.due(one, c.x.step(0, 99), 0);
@@ -666,7 +675,7 @@ public final class ToldBoundsTest {
         c.x.step(0, 99);
         Calls.due("its element", c.x.object(0, 1, 8), 3);
         c.x.collect(0);
-        for (int k = 0; k < 2; k++) {
+        for (int k = 0; k < 6; k++) {
             c.call(0, 0, "A.keep()none");
             c.x.step(0, 99);
             for (int i = 0; i < 9; i++) {
