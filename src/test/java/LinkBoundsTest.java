@@ -69,6 +69,7 @@ public final class LinkBoundsTest {
         Calls.due("class of " + call, c.x.run(0, 0, 4), cls);
     }
 
+    /** BUILT-IN ones: their parents; "They have no fields .. are neither final nor abstract, linked and started"; what is below what. */
     private static void builtInOnes() {
         ClassWorks x = new ClassWorks();
         x.world(0);
@@ -295,6 +296,7 @@ public final class LinkBoundsTest {
         link(0, "abstract class A : Thing|method abstract e()none|end");
     }
 
+    /** "once; when it fails it fails so each time that it is wanted, the same class of fault and rule again". */
     private static void linkedOnce() {
         Calls c = world(0, "class A : B|end|class D : Thing, I|end|class C : A|end");
         Calls.due("A", c.x.link(0, 21), 2011);
@@ -420,6 +422,7 @@ public final class LinkBoundsTest {
         Calls.due("eight of the start, one of f, two of g", c.x.run(0, 0, 1), 11);
     }
 
+    /** NEW when linking fails; FAILED: "ClassFault (at an instruction: a step that throws)", without a step before the first one. */
     private static void startStates() {
         Calls c = world(0, "class A : Gone|method static f()none|room 0 0|done|end|class B : Thing|method static f()none|room 0 0|done|method static <start>()none|room 1 0|null|throw|end"
             + "|class U : Thing|method static a()none|room 1 0|static A.f()none|done|method static b()none|room 1 0|static B.f()none|done|end");
@@ -921,6 +924,23 @@ public final class LinkBoundsTest {
         fails(c, "D.f(num)num : 39", 0, 20);
         Calls.due("S FAILED", c.x.told(0, 21, 5), 3);
         Calls.due("P STARTED", c.x.told(0, 22, 5), 2);
+        // the start comes before the frame that a call wants, and before the room that an object wants
+        told = told.replace("sget S.v num", "static S.g()num").replace("|%", "|%|method static g()num|room 1 0|num 8|ndone");
+        c = world(0, told.replace("|%|", "|"));
+        number(c, "D.f(num)num : 38", 8);
+        c = world(0, told.replace("|%|", "|"));
+        fails(c, "D.f(num)num : 39", 0, 8);
+        Calls.due("S STARTED", c.x.told(0, 21, 5), 2);
+        c = world(0, told.replace("%", start));
+        fails(c, "D.f(num)num : 39", 0, 20);
+        Calls.due("S FAILED", c.x.told(0, 21, 5), 3);
+        c = world(0, "class S : Thing|field x num|method static <start>()none|room 1 0|num 1|sput D.v num|done|end|class D : Thing|field static v num|method static f()none|room 2 1|num 800|nstore 0|frame num;|L: new Thing|pop|inc 0 -1|nload 0|ifg L|done"
+            + "|method static g()none|room 1 0|new S|pop|done|end");
+        run(c, 0, "D.f()none");
+        Calls.due("800 are there", c.x.run(0, 0, 10), 800);
+        fails(c, "D.g()none", 0, 9);
+        Calls.due("S STARTED", c.x.told(0, 21, 5), 2);
+        Calls.due("its <start> was run", c.x.fixed(0, 22, 0), 1);
     }
 
     /** run() tells 4 of a thread that was found to wait, not of one that was not looked at; a halt ends that. */

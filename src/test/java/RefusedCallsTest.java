@@ -152,6 +152,7 @@ public final class RefusedCallsTest {
         refused(what, ClassWorks.BAD, act);
     }
 
+    /** cut() and world() beside what they can take; all calls of no such world. */
     private static void worldCalls() {
         for (int n : new int[] {-1, 16, 6001, LEAST, MOST}) {
             bad("cut " + n, x -> x.cut(n));
@@ -190,6 +191,7 @@ public final class RefusedCallsTest {
         }
     }
 
+    /** All calls of no such class; what is none of a class. */
     private static void classCalls() {
         for (int c : NO_CLASSES) {
             bad("told " + c, x -> x.told(0, c, 0));
@@ -218,6 +220,7 @@ public final class RefusedCallsTest {
         }
     }
 
+    /** No such fields, methods, kinds and bytes of names. */
     private static void memberCalls() {
         for (int k : new int[] {-2, 4, LEAST, MOST}) {
             bad("name of field " + k, x -> x.name(0, 21, 0, k, 0));
@@ -248,6 +251,7 @@ public final class RefusedCallsTest {
         bad("fixed, but not static", x -> x.fixed(0, 21, 3));
     }
 
+    /** No such threads, quanta, steps and whats of runs; NO of what is on, and of no run. */
     private static void runCalls() {
         for (int t : NO_THREADS) {
             bad("call in thread " + t, x -> x.call(0, t));
@@ -277,6 +281,7 @@ public final class RefusedCallsTest {
         }
     }
 
+    /** No such locals, places of a stack, objects, rows, fields, elements. */
     private static void objectCalls() {
         for (int i : new int[] {-1, 2, 20, LEAST, MOST}) {
             bad("local " + i, x -> x.value(0, 0, false, i));
@@ -296,6 +301,7 @@ public final class RefusedCallsTest {
         }
     }
 
+    /** Beside what was written, told, foretold, traced, counted, reached. */
     private static void toldCalls() {
         for (int i : new int[] {-1, 49, LEAST, MOST}) {
             bad("written " + i, x -> x.written(i));
@@ -332,6 +338,7 @@ public final class RefusedCallsTest {
         }
     }
 
+    /** No such what of differ(). */
     private static void differCalls() {
         for (int what : new int[] {-1, 4, LEAST, MOST}) {
             bad("differ what " + what, x -> x.differ(0, 21, 1, 21, what));
@@ -340,6 +347,7 @@ public final class RefusedCallsTest {
         bad("a class of the other world", x -> x.differ(0, 21, 1, 22, 0));
     }
 
+    /** No such trials, breaks, ways, lines, bytes and counts. */
     private static void trialCalls() {
         for (int t : NO_TRIALS) {
             bad("outcome of " + t, x -> x.outcome(t, 0, 0));

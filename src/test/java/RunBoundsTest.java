@@ -108,6 +108,7 @@ public final class RunBoundsTest {
         }
     }
 
+    /** "as many NUMBERS as arguments": six, at the ends of what a number can be. */
     private static void numbersOfCalls() {
         for (int n : new int[] {0, 1, -1, MAX, MIN}) {
             Calls c = world("class A : Thing|method static f(num,num,num,num,num,num)num|room 1 6|nload 5|ndone|end");
@@ -131,6 +132,7 @@ public final class RunBoundsTest {
         }
     }
 
+    /** run(): "2 what it ended with: 0 nothing, 1 a number, 2 null, 3 a row, 4 an object, 3 that number (else 0), 4 the class .. (NO)". */
     private static void resultsOfRuns() {
         ends(0, 0, -2, "none", "done");
         ends(1, 7, -2, "num", "num 7|ndone");
@@ -551,6 +553,7 @@ public final class RunBoundsTest {
         Calls.due("it is not linked", c.x.told(0, 22, 6), 0);
     }
 
+    /** "in whose span the instruction stands": from its first LABEL on, before its second; in the frame that called, the call. */
     private static void spansOfHandlers() {
         for (int at = 0; at < 4; at++) {
             for (int from = 0; from < 4; from++) {

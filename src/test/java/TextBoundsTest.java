@@ -68,6 +68,7 @@ public final class TextBoundsTest {
         return s.toString();
     }
 
+    /** "THE TAPE has up to 6000 bytes"; feed, "the highest of each int first", and cut at their ends. */
     private static void tapeHasUpTo6000Bytes() {
         ClassWorks x = new ClassWorks();
         Calls.due("it is empty at first", x.count(2), 0);
@@ -576,6 +577,7 @@ public final class TextBoundsTest {
         refused(1, body("inc 19 ^2147483648"));
     }
 
+    /** 2: a class of this NAME is in the world (built-in ones, too), or before it in the text. */
     private static void rule2() {
         String[] built = {"Thing", "Fault", "NullFault", "ZeroFault", "PlaceFault", "SizeFault", "CastFault", "LockFault", "DeepFault", "RoomFault", "LinkFault", "ClassFault",
             "FieldFault", "MethodFault", "AccessFault", "KindFault", "RingFault", "CheckFault", "BodyFault", "MakeFault", "StartFault"};
@@ -602,6 +604,7 @@ public final class TextBoundsTest {
         c.goodIn(0, 1, "class A : Thing|end");
     }
 
+    /** 3: a field of this NAME, a method of this NAME with the same types and result is in the class already. */
     private static void rule3() {
         refused(3, OPEN + "field x num|^field x num|end");
         refused(3, OPEN + "field x num|^field static x A|end");
@@ -616,6 +619,7 @@ public final class TextBoundsTest {
         Calls.good(2, "class A : Thing|field x num|end|class B : A|field x num|end");
     }
 
+    /** 4: all FLAGS of a class, with Thing as its parent and another; all FLAGS of a method. */
     private static void rule4() {
         String[] flags = {"", "final ", "abstract ", "final abstract ", "face ", "final face ", "abstract face ", "final abstract face "};
         for (int f = 0; f < 8; f++) {
@@ -649,6 +653,7 @@ public final class TextBoundsTest {
         }
     }
 
+    /** 5: in a face all FLAGS of fields and methods; <make>. */
     private static void rule5() {
         String[] of = {"static ", "final ", "private "};
         for (int f = 0; f < 8; f++) {
@@ -673,6 +678,7 @@ public final class TextBoundsTest {
         good("face class A : Thing|method static <start>()none|room 0 0|done|method abstract m()none|end");
     }
 
+    /** 6: an abstract method in a class that is neither abstract nor a face. */
     private static void rule6() {
         refused(6, OPEN + "^method abstract f()none|end");
         refused(6, "final class A : Thing|^method abstract f()none|end");
@@ -680,6 +686,7 @@ public final class TextBoundsTest {
         good("face class A : Thing|method abstract f()none|end");
     }
 
+    /** 7: <make> and <start> with all FLAGS, arguments, results. */
     private static void rule7() {
         String[] of = {"static ", "final ", "private "};
         for (int f = 0; f < 8; f++) {
@@ -772,6 +779,7 @@ public final class TextBoundsTest {
         refused(1, OPEN + "method f()none|room 1 1|^");
     }
 
+    /** 11: "of all that are told, however many". */
     private static void rule11() {
         refused(11, "^class A : A|end");
         refused(11, "^class A : Thing, A|end");
@@ -800,6 +808,7 @@ public final class TextBoundsTest {
         return s.toString();
     }
 
+    /** 12: the last that there can be, and one more, of each. */
     private static void rule12() {
         Calls.due("faces", Calls.good(1, "class A : Thing, B, C, D, E|end").x.told(0, 21, 1), 4);
         refused(12, "^class A : Thing, B, C, D, E, F|end");
@@ -845,6 +854,7 @@ public final class TextBoundsTest {
         c.goodIn(1, 1, "class B : Thing|end");
     }
 
+    /** 13: "fewer LOCALS than arguments (and one for itself, if it is not static)". */
     private static void rule13() {
         String[] types = {"", "num", "num,num", "num,num,num", "num,num,num,num", "num,num,num,num,num", "num,num,num,num,num,num"};
         for (int n = 0; n <= 6; n++) {
@@ -860,6 +870,7 @@ public final class TextBoundsTest {
         refused(1, OPEN + "method f()none|room 0 0 ^x|done|end");
     }
 
+    /** 14: "= with a field that is not static or not num". */
     private static void rule14() {
         good(OPEN + "field static x num = 0|end");
         good(OPEN + "field static final private x num = 0|end");

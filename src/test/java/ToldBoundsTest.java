@@ -102,6 +102,7 @@ public final class ToldBoundsTest {
             "abstract class A: B| field x num| field y num| method abstract a() none| method b() none|  room 0 1|  nop| method abstract c() num|end");
     }
 
+    /** "its first line, FLAGS in the order of section 1"; those of fields and methods likewise. */
     private static void writtenFlags() {
         written("face final abstract class A:B|end", "final abstract face class A: B|end");
         written("face class A:B|end", "face class A: B|end");
@@ -113,6 +114,7 @@ public final class ToldBoundsTest {
             "abstract class A: B| method static final private abstract a() none| method static private b() none|  room 0 1|  nop| method final private c() none|  room 0 1|  nop| method final d() none|  room 0 1|  nop| method abstract e() none|end");
     }
 
+    /** NUMBERS as they are, however they were told. */
     private static void writtenNumbers() {
         int[] numbers = {0, 1, 9, 10, 99, 100, 1000000000, 1999999999, 2147483647, -1, -10, -2147483648, -2000000000};
         for (int n : numbers) {
@@ -153,6 +155,7 @@ public final class ToldBoundsTest {
         "other L0", "pick 0 L0, L0", "new C", "newrow", "get", "put", "size", "fget C.x num", "fput C.x row", "sget C.x C", "sput C.x num", "call C.m(num, C) none", "special C.<make>(row) C", "static C.m() row",
         "facecall C.m(C, C) num", "cast C", "is C", "throw", "done", "ndone", "rdone", "enter", "leave"};
 
+    /** Each operation, and its LABEL if it uses one. */
     private static void writtenOperations() {
         for (int op = 0; op < 62; op++) {
             boolean labelled = OPERATIONS[op].contains("L0");
@@ -204,6 +207,7 @@ public final class ToldBoundsTest {
         Calls.due("instructions", c.x.member(1, 21, 0, 4), 11);
     }
 
+    /** told(), member() and name() of each member, to the last one and behind it. */
     private static void toldOfMembers() {
         Calls c = world("abstract class A : Thing|field num num|field x row|field abcdefghijkl A|method f(num,row,A,num,num,num)none|room 20 19|nop|method abstract g()none|method static <start>()none|room 0 20|nop|method private <make>()none|room 3 4|nop|nop|end");
         int[][] due = {{0, 6, 20, 19, 1}, {8, 0, 0, 0, 0}, {1, 0, 0, 20, 1}, {4, 0, 3, 4, 2}};
@@ -282,6 +286,7 @@ public final class ToldBoundsTest {
         Calls.due("no more", c.x.foretell(0, 25, 1, 2), -2);
     }
 
+    /** "by methods and instructions": the i-th to the last; NO behind it. */
     private static void foretoldInOrder() {
         StringBuilder told = new StringBuilder("abstract class A : Thing|method static f()none|room 1 1|nop|");
         for (int i = 0; i < 79; i++) {
@@ -300,6 +305,7 @@ public final class ToldBoundsTest {
         }
     }
 
+    /** "whose finding fails now". */
     private static void foretoldNow() {
         Calls c = world("class A : Thing|method static f()none|room 1 1|sget Late.x num|pop|done|end");
         Calls.due("not there", c.x.foretell(0, 21, 0, 2), 50);
@@ -352,6 +358,7 @@ public final class ToldBoundsTest {
         }
     }
 
+    /** "which method call takes for an object of class k, for one that may ask all". */
     private static void askedMethods() {
         Calls c = world("face class I : Thing|method d()num|room 1 1|num 1|ndone|method abstract e()num|end|class P : Thing, I|method m()num|room 1 1|num 1|ndone|method private p()num|room 1 1|num 1|ndone|end"
             + "|class Q : P|method private m()num|room 1 1|num 1|ndone|method p()num|room 1 1|num 1|ndone|method static d()num|room 1 0|num 1|ndone|end|class R : Q|method m()num|room 1 1|num 1|ndone|end|class N : Thing|end");
@@ -411,6 +418,7 @@ public final class ToldBoundsTest {
             {1, 0, 22, 1, 17}, {2, 0, 22, 1, 18}, {2, 0, 22, 2, 19}, {2, 0, 22, 3, 20}});
     }
 
+    /** "each with its thread"; halt() leaves what was traced. */
     private static void tracedThreads() {
         Calls c = world("class A : Thing|method static f()num|room 2 0|num 1|nop|nop|ndone|end");
         c.x.quantum(0, 1);
@@ -491,6 +499,7 @@ public final class ToldBoundsTest {
         Calls.due("op -1", c.x.done(0, -1), -1);
     }
 
+    /** "was done, or threw". */
     private static void countedThrows() {
         String[] lines = {"null|throw", "num 1|num 0|div", "num 1|num 0|rem", "num -1|newrow", "null|size", "null|num 1|get", "null|num 1|num 1|put", "null|enter", "null|leave", "new Gone", "sget Gone.x num", "num 1|sput Gone.x num", "null|fget A.x num",
             "null|num 1|fput A.x num", "static Gone.f()none", "null|call A.m()none", "num 0|newrow|cast A", "num 0|newrow|is Gone", "num 0|newrow|cast Thing|facecall I.m()none"};
@@ -716,6 +725,7 @@ public final class ToldBoundsTest {
         Calls.due("none", c.x.run(0, 0, 10), 0);
     }
 
+    /** LOCKS reach nothing, and what has the number then has none. */
     private static void collectedLocks() {
         Calls c = world("class A : Thing|field static a row|method static in()none|room 2 0|num 3|newrow|dup|sput A.a row|enter|done|method static no()none|room 1 0|null|sput A.a row|done|method static make()none|room 1 0|num 2|newrow|sput A.a row|done|end");
         c.call(0, 1, "A.in()none");

@@ -537,6 +537,7 @@ public final class TrialBoundsTest {
         shrunk("class A : Thing|field x num|field y num|end|class B : Thing|end|class C : A|end|" + RUN, 0);
     }
 
+    /** "its outcomes without and with the breaks are as they were". */
     private static void shrunkWithBreaks() {
         for (int bits = 0; bits < 8; bits++) {
             for (int breaks : new int[] {0, 32, 64, 128, 255}) {
@@ -645,6 +646,7 @@ public final class TrialBoundsTest {
         Calls.due("40", c.x.count(0), 40);
     }
 
+    /** text(): "Byte i (0 .. 255) of a trial's text, its lines with a 10 behind each". */
     private static void textsToTheEnd() {
         Calls c = new Calls();
         String told = "x" + " ".repeat(1200 - RUN.length() - 2) + "|" + RUN;
@@ -672,6 +674,7 @@ public final class TrialBoundsTest {
         }
     }
 
+    /** count(): "0 trials, 1 steps left, 2 bytes on the TAPE". */
     private static void counted() {
         Calls c = new Calls();
         int[] due = {0, 60000, 0};
