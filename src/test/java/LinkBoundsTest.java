@@ -937,6 +937,7 @@ public final class LinkBoundsTest {
         c = world(0, "class S : Thing|field x num|method static <start>()none|room 1 0|num 1|sput D.v num|done|end|class D : Thing|field static v num|method static f()none|room 2 1|num 800|nstore 0|frame num;|L: new Thing|pop|inc 0 -1|nload 0|ifg L|done"
             + "|method static g()none|room 1 0|new S|pop|done|end");
         run(c, 0, "D.f()none");
+        Calls.due("to its end", c.x.step(0, 99), 0);
         Calls.due("800 are there", c.x.run(0, 0, 10), 800);
         fails(c, "D.g()none", 0, 9);
         Calls.due("S STARTED", c.x.told(0, 21, 5), 2);
