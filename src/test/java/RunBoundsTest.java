@@ -1000,6 +1000,17 @@ public final class RunBoundsTest {
         }
         Calls.due("fixed", c.x.fixed(0, 23, 3), 1001);
         Calls.due("fixed", c.x.fixed(0, 23, 4), 2);
+        // static ones are none of an object's, wherever they stand
+        c = world("class A : Thing|field static s Fault|field n num|field static m num|field f Fault|field static t row|field o num" + MAKE + "|method static f()none|room 5 2|handler a b h any|a: null|size|pop|b: done|frame;Fault|h: rstore 0|new A|dup|special A.<make>()none|rstore 1"
+            + "|rload 1|num 7000|fput A.n num|rload 1|rload 0|fput A.f Fault|rload 1|num 8000|fput A.o num|done|end");
+        c.call(0, 0, "A.f()none");
+        Calls.due("to its end", c.x.step(0, 99), 0);
+        int[] three = {7000, 0, 8000};
+        for (int i = 0; i < 3; i++) {
+            Calls.due("its field " + i, c.x.object(0, 1, i), three[i]);
+        }
+        Calls.due("three fields", c.x.object(0, 1, -3), 3);
+        Calls.due("no fourth", c.x.object(0, 1, 3), -1);
     }
 
     /** A frame's stack is empty when it begins, whatever stood there when another one ended. */
