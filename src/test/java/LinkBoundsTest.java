@@ -22,6 +22,7 @@ public final class LinkBoundsTest {
         startsOfFaces();
         startsAndSteps();
         startsWait();
+        startsByThreads();
         haltsInStarts();
         fieldsFound();
         fieldRules();
@@ -263,6 +264,15 @@ public final class LinkBoundsTest {
         link(2515, "class A : P|method a()none|room 0 1|done|method m()none|room 0 1|done|end|class P : Thing|method b()none|room 0 1|done|method final m()none|room 0 1|done|end");
         // the one between may be another: it is asked of all above
         link(2515, "class A : B|method m()none|room 0 1|done|end|class B : P|method private m()none|room 0 1|done|end|class P : Thing|method final m()none|room 0 1|done|end");
+        // wherever the class stands, and whichever of its methods it is
+        String front = "class P : Thing|method final m()none|room 0 1|done|method static s()none|room 0 0|done|end|class Q : Thing|method private q()none|room 0 1|done|method static m()none|room 0 0|done|end|";
+        String[] last = {"method m()none|room 0 1|done", "method private m()none|room 0 1|done", "method static m()none|room 0 0|done", "method s()none|room 0 1|done"};
+        for (int k = 0; k < 4; k++) {
+            Calls c = world(0, front + "class A : P|method n()none|room 0 1|done|method private o()none|room 0 1|done|" + last[k] + "|end");
+            Calls.due(last[k], c.x.link(0, 23), k == 0 ? 2515 : 0);
+            c = world(0, front + "class A : P|method static n()none|room 0 0|done|" + last[k] + "|method o()none|room 0 1|done|end");
+            Calls.due(last[k], c.x.link(0, 23), k == 0 ? 2515 : 0);
+        }
         // not of faces, and not of its own
         Calls c = world(2, "class A : Thing, I|method m()none|room 0 1|done|end|face class I : Thing|method final m()none|room 0 1|done|end");
         Calls.due("a final method of a face", c.x.link(0, 21), 0);
@@ -572,6 +582,45 @@ public final class LinkBoundsTest {
         c = world(0, "class S : Thing|field static x num = 2|method static <start>()none|room 1 0|sget T.x num|pop|done|end|class T : Thing|field static x num|method static <start>()none|room 1 0|sget S.x num|sput T.x num|done|end"
             + "|class A : Thing|method static s()num|room 1 0|sget S.x num|pop|sget T.x num|ndone|end");
         number(c, "A.s()num", 2);
+    }
+
+    /** Whichever threads they are: the one that starts goes on, another one waits; a parent that GOES ON in the own one goes by. */
+    private static void startsByThreads() {
+        String told = "class S : Thing|field static x num|method static <start>()none|room 2 0|nop|new C|dup|special C.<make>()none|pop|num 4|sput S.x num|done|method static f()num|room 1 0|sget S.x num|ndone" + MAKE + "|end|class C : S|field static y num = 3|method <make>()none|room 1 1|rload 0|special S.<make>()none|done|end"
+            + "|class A : Thing|method static x()num|room 1 0|sget S.x num|ndone|method static y()num|room 1 0|sget C.y num|ndone|end";
+        String[] calls = {"S.f()num", "A.x()num", "A.y()num"};
+        for (int first = 0; first < 3; first++) {
+            for (int then = 0; then < 3; then++) {
+                for (int how = 0; how < 3 && first != then; how++) {
+                    Calls c = world(0, told);
+                    c.x.quantum(0, 1);
+                    // the first turn has 50 steps still, one behind halt() has not
+                    Calls.due("none is on", c.x.halt(0), 0);
+                    c.call(0, first, "S.f()num");
+                    c.x.step(0, 1);
+                    Calls.due("GOES ON", c.x.told(0, 21, 5), 1);
+                    Calls.due("then", c.call(0, then, calls[how]), 0);
+                    // it is looked at when the other one's turn is over
+                    for (int i = 0; i < 60 && c.x.run(0, then, 0) == 1 && c.x.told(0, 21, 5) == 1; i++) {
+                        c.x.step(0, 1);
+                    }
+                    Calls.due(then + " waits for " + first + " by " + calls[how], c.x.run(0, then, 0), 4);
+                    Calls.due("S GOES ON", c.x.told(0, 21, 5), 1);
+                    if (how == 2) {
+                        // it began the start of C, which that of S wants: each waits for the other
+                        Calls.due("STUCK", c.x.step(0, 99), 3);
+                        Calls.due("the first one waits", c.x.run(0, first, 0), 4);
+                        Calls.due("C GOES ON", c.x.told(0, 22, 5), 1);
+                        continue;
+                    }
+                    Calls.due("all end", c.x.step(0, 99), 0);
+                    Calls.due("the first one's", c.x.run(0, first, 3), 4);
+                    Calls.due("the other one's", c.x.run(0, then, 3), 4);
+                    Calls.due("S STARTED", c.x.told(0, 21, 5), 2);
+                    Calls.due("C STARTED, within the start of S", c.x.told(0, 22, 5), 2);
+                }
+            }
+        }
     }
 
     /** halt(): "Classes whose starts went on in them have FAILED". */

@@ -509,6 +509,22 @@ public final class RunBoundsTest {
             c.x.step(0, 4000);
             Calls.due("DeepFault by " + op, c.x.run(0, 0, 4), 8);
         }
+        // null, and what an object is asked, come before that: the object was made before, as a <make> wants a frame, too
+        String full = "face class I : Thing|method abstract m()num|end|class N : Thing" + MAKE + "|end|abstract class U : Thing" + MAKE + "|method abstract w()num|method v()num|room 1 1|num 2|ndone|end|class V : U" + MAKE.replace("Thing", "U") + "|end"
+            + "|class K : Thing|field static o Thing|method static n()none|room 2 0|new N|dup|special N.<make>()none|sput K.o Thing|done|method static v()none|room 2 0|new V|dup|special V.<make>()none|sput K.o Thing|done|end"
+            + "|class A : Thing|method static f(num)num|room 2 1|nload 0|if0 L|nload 0|num 1|sub|static A.f(num)num|ndone|frame num;|L: %|ndone|end";
+        String[] lasts = {"null|call U.v()num", "null|facecall I.m()num", "sget K.o Thing|cast N|facecall I.m()num", "sget K.o Thing|cast V|call U.w()num", "sget K.o Thing|cast V|call U.v()num"};
+        int[] faults = {2, 2, 15, 18, 8};
+        int[] rules = {0, 0, 59, 58, 0};
+        for (int i = 0; i < lasts.length; i++) {
+            c = world(full.replace("%", lasts[i]));
+            c.call(0, 0, i == 2 ? "K.n()none" : "K.v()none");
+            c.x.step(0, 99);
+            c.call(0, 0, "A.f(num)num : 39");
+            c.x.step(0, 4000);
+            Calls.due("fault of " + lasts[i], c.x.run(0, 0, 4), faults[i]);
+            Calls.due("rule of " + lasts[i], c.x.run(0, 0, 5), rules[i]);
+        }
         // it can be taken by the frame that called
         c = world("class A : Thing|method static f(num)num|room 2 1|handler a b h DeepFault|a: inc 0 1|nload 0|static A.f(num)num|b: ndone|frame num;DeepFault|h: pop|nload 0|ndone|end");
         c.call(0, 0, "A.f(num)num : 0");

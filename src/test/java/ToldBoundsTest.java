@@ -135,6 +135,8 @@ public final class ToldBoundsTest {
         written(head + "a: nop|b:|handler a b c any|nop|nop|c: nop|end", due + "  L0: nop|  L1: nop|  nop|  L2: nop|  handler L0 L1 L2 any|end");
         written(head + "handler a e b C|handler b e a any|a: nop|b: nop|e:|end", due + "  L0: nop|  L1: nop|  L2:|  handler L0 L2 L1 C|  handler L1 L2 L0 any|end");
         written(head + "nop|e:|end", due + "  nop|end");
+        // each of a handler's three may be used by it alone
+        written(head + "a: nop|b: nop|c: nop|d: nop|e: nop|f: nop|g: nop|h: nop|handler a b c any|handler e g h C|end", due + "  L0: nop|  L1: nop|  L2: nop|  nop|  L3: nop|  nop|  L4: nop|  L5: nop|  handler L0 L1 L2 any|  handler L3 L4 L5 C|end");
         // a frame stands in front of the instruction, its LABEL at the words
         written(head + "a:|frame num;|b: nop|end", due + "  frame num;|  nop|end");
         written(head + "a:|frame num;|b: jump a|end", due + "  frame num;|  L0: jump L0|end");
@@ -404,6 +406,16 @@ public final class ToldBoundsTest {
         c.call(0, 0, "U.f()num");
         c.x.step(0, 99);
         int[][] due = {{4, 0, 23, -2, 0}, {5, 0, 23, -2, 0}, {1, 0, 23, 0, 0}, {4, 0, 21, -2, 0}, {4, 0, 22, -2, 0}, {1, 0, 22, 0, 0}, {3, 0, 22, 0, 2}, {6, 0, 22, -2, 2}, {6, 0, 21, -2, 2}, {3, 0, 23, 0, 2}};
+        traced(c, due);
+        // in another thread: the parent FAILED before
+        c.call(0, 2, "W.f()num");
+        Calls.due("W is not there", c.x.step(0, 9), 0);
+        c.goodIn(0, 1, "class W : P|method static f()num|room 1 0|num 1|ndone|end");
+        c.call(0, 2, "W.f()num");
+        c.x.step(0, 9);
+        due = java.util.Arrays.copyOf(due, 12);
+        due[10] = new int[] {4, 2, 24, -2, 0};
+        due[11] = new int[] {6, 2, 24, -2, 0};
         traced(c, due);
         // FAILED: nothing begins any more
         c.call(0, 0, "A.f()num");
