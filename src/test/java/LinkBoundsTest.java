@@ -606,6 +606,7 @@ public final class LinkBoundsTest {
                     }
                     Calls.due(then + " waits for " + first + " by " + calls[how], c.x.run(0, then, 0), 4);
                     Calls.due("S GOES ON", c.x.told(0, 21, 5), 1);
+                    Calls.due("a run whose class GOES ON has no frame", c.x.run(0, then, 6), how == 0 ? 0 : 1);
                     if (how == 2) {
                         // it began the start of C, which that of S wants: each waits for the other
                         Calls.due("STUCK", c.x.step(0, 99), 3);
