@@ -11,6 +11,7 @@ public final class CheckBoundsTest {
 
     public static void main(String[] args) {
         wantsOfOperations();
+        referencesWanted();
         twoWrongOnes();
         whatComes();
         tooFewOnTheStack();
@@ -220,6 +221,24 @@ public final class CheckBoundsTest {
             lines.append(brings(value)).append('|');
         }
         both(rule == 0 ? 0 : 1000 * rule + values.size() + 1, sign, "9 9", lines + op);
+    }
+
+    /** REF is any class, row or null, whatever the method's result is. */
+    private static void referencesWanted() {
+        String[] ops = {"isnull L", "notnull L", "same L", "other L", "cast G", "is G", "enter", "leave"};
+        for (String result : new String[] {"none", "num", "row", "P", "G", "Thing"}) {
+            for (String op : ops) {
+                boolean two = op.equals("same L") || op.equals("other L");
+                for (String value : new String[] {"row", "null", "P", "H", "I", "Thing"}) {
+                    int at = two ? 2 : 1;
+                    String values = (two ? brings("row") + "|" : "") + brings(value);
+                    both(33001 + at, "static f()" + result, "9 9", values + "|" + op + "|nload 19|frame ;|L: jump L");
+                    if (two) {
+                        both(33001 + at, "static f()" + result, "9 9", brings(value) + "|" + brings("row") + "|" + op + "|nload 19|frame ;|L: jump L");
+                    }
+                }
+            }
+        }
     }
 
     /** "one of these (the uppermost first)"; 39 when no one breaks 32. */
