@@ -317,7 +317,7 @@ public final class RefusedCallsTest {
             bad("foretell " + i, x -> x.foretell(0, 21, i, 0));
             bad("trace " + i, x -> x.trace(0, i, 0));
             bad("hole " + i, x -> x.hole(i));
-            refused("reached " + i, ClassWorks.NO, x -> x.reached(i));
+            refused("reached " + i, -1, x -> x.reached(i) < 0 ? -1 : 0);
         }
         for (int i : new int[] {400, MOST}) {
             refused("foretell " + i, ClassWorks.NO, x -> x.foretell(0, 21, i, 0));

@@ -87,7 +87,7 @@ public final class RunBoundsTest {
             Calls.due("frames " + one, c.x.run(0, 1, 6), 0);
             Calls.due("steps " + one, c.x.run(0, 1, 1), 0);
         }
-        String[] bad = {"^", "#^", "||^", "#||#x^", "^5", "run ^A.f()num", "A^", "A ^f()num", "A.^5()num", "A.^<make>()none", "A.^<start>()none", "A.f ^num", "A.f(^", "A.f(num^", "A.f(^row)num : 1",
+        String[] bad = {"^", "^5", "run ^A.f()num", "A^", "A ^f()num", "A.^5()num", "A.^<make>()none", "A.^<start>()none", "A.f ^num", "A.f(^", "A.f(num^", "A.f(^row)num : 1",
             "A.f(^A)num : 1", "A.f(^none)num", "A.f(num,^)num : 1", "A.f()^", "A.f()^any", "A.f()^null", "A.f()^5", "A.f()num ^:", "A.f()num ^: 1", "A.f()num ^x", "A.f(num)num^", "A.f(num)num :^",
             "A.f(num)num : ^x", "A.f(num)num : 1 ^2", "A.f(num)num : 1^, 2", "A.f(num,num)num : 1^", "A.f(num,num)num : 1,^", "A.f(num,num)num : 1 ^: 2", "A.f(num)num ^, 1", "A.f(num)num : ^2147483648",
             "A.f(num)num : ^-2147483649", "A.f(" + six + ",^num)num : 1, 2, 3, 4, 5, 6, 7", "A.f(" + six + ",^num)num", "A.f(" + six + ",^row)num", "A.f()num|^A.f()num", "A.f()num||#|  ^x", "A.f()num|^@",
@@ -489,9 +489,9 @@ public final class RunBoundsTest {
         Calls.due("no third local", c.x.value(0, 0, false, 2), -1);
     }
 
-    /** "DeepFault when 40 are there", of all four calls; a built-in <make> is no frame. */
+    /** "DeepFault when 40 are there", of all four calls. */
     private static void deepFrames() {
-        Calls c = world("class A : Thing|method static f(num)num|room 2 1|nload 0|if0 L|nload 0|num 1|sub|static A.f(num)num|ndone|frame num;|L: new Thing|special Thing.<make>()none|num 5|ndone|end");
+        Calls c = world("class A : Thing|method static f(num)num|room 2 1|nload 0|if0 L|nload 0|num 1|sub|static A.f(num)num|ndone|frame num;|L: num 5|ndone|end");
         c.call(0, 0, "A.f(num)num : 39");
         c.x.step(0, 4000);
         Calls.due("40 frames", c.x.run(0, 0, 3), 5);

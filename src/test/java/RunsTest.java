@@ -32,7 +32,6 @@ public final class RunsTest {
     private static void calls() {
         Calls c = world("class A : Thing|method static f(num,num)num|room 2 2|nload 0|nload 1|sub|ndone|end");
         refused(c, "^");
-        refused(c, "  # nothing^");
         refused(c, "A.f(num,num)num : 1^");
         refused(c, "A.f(num,num)num : 1, 2^, 3");
         refused(c, "A.f(num,num)num^");

@@ -230,7 +230,7 @@ public final class TapeAndWorldsTest {
         refused(10, body("L: nop|M: done|handler L M L any|^handler L L L any"));
         refused(9, body("L: nop|M: done|handler L L L any|^jump Q"));
         refused(9, body("jump M|M: done|^M: L: nop|jump L|frame ;"));
-        refused(8, "class A : Thing|method static f()none|room 9 9|^field @|end");
+        refused(8, "class A : Thing|method static f()none|room 9 9|^field x num|end");
         refused(9, "class A : Thing|method static f()none|room 9 9|^handler a a a any|end @");
         refused(1, "class A : Thing|method static f()none|room 9 9|jump L|^@|end");
         refused(1, "class A : Thing|method static f()none|room 9 9|jump L^");

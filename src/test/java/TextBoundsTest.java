@@ -719,8 +719,11 @@ public final class TextBoundsTest {
     /** Asked when a method ends: at field, method or end, 9 first, then 10, then 8, before the rules of that line. */
     private static void rule8To10() {
         for (String end : new String[] {"end", "field x num", "method g()none", "end @", "field", "method x @"}) {
-            refused(8, OPEN + "method static f()none|room 1 1|^" + end + "|end");
-            refused(8, OPEN + "method static f()none|room 1 1|a:|b:|  ^" + end + "|end");
+            // whether 8 comes before 1 of that line is not told
+            if (end.equals("end") || end.endsWith("num") || end.endsWith("none")) {
+                refused(8, OPEN + "method static f()none|room 1 1|^" + end + "|end");
+                refused(8, OPEN + "method static f()none|room 1 1|a:|b:|  ^" + end + "|end");
+            }
             refused(9, OPEN + "method static f()none|room 1 1|done|^jump a|" + end + "|end");
             refused(9, OPEN + "method static f()none|room 1 1|^frame ;|" + end + "|end");
             refused(9, OPEN + "method static f()none|room 1 1|^handler a b a any|a: b:|" + end + "|end");
@@ -934,7 +937,7 @@ public final class TextBoundsTest {
         refused(12, "^class A : Thing, B, C, D, E, F|@|end");
         refused(11, "^class A : A|class A : A|@");
         refused(2, "class A : Thing|end|^class A : A|@");
-        refused(8, OPEN + "method f()none|room 0 1|^method f()none|@|end");
+        refused(8, OPEN + "method f()none|room 0 1|^method g()none|@|end");
         refused(3, OPEN + "method f()none|room 0 1|nop|^method f()none|@|end");
         refused(7, OPEN + "^method <start>()none|@|end");
         refused(1, "class A : Thing|end|^x|class A : Thing|end");

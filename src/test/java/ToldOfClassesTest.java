@@ -380,7 +380,6 @@ public final class ToldOfClassesTest {
             Calls.due("reached " + i, c.x.reached(i), due[i]);
         }
         Calls.due("no more", c.x.reached(due.length), -2);
-        Calls.due("below", c.x.reached(-1), -2);
         Calls.due("what objects take", c.x.reach(0, 22, 1), 4);
         int[] face = {2201, 2200, 2300, 2400};
         for (int i = 0; i < face.length; i++) {

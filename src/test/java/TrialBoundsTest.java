@@ -594,9 +594,11 @@ public final class TrialBoundsTest {
                 trial(c, told + RUN);
                 Calls.due("line " + n + " by " + way, c.x.change(0, way, n, 0), -1);
                 Calls.due("line -1 by " + way, c.x.change(0, way, -1, 0), -1);
-                Calls.due("to line " + n + " by " + way, c.x.change(0, way, 0, n), way < 2 ? 1 : -1);
-                Calls.due("to line -1 by " + way, c.x.change(0, way, 0, -1), way < 2 ? 2 : -1);
-                Calls.due("so many", c.x.count(0), way < 2 ? 3 : 1);
+                if (way > 1) {
+                    Calls.due("to line " + n + " by " + way, c.x.change(0, way, 0, n), -1);
+                    Calls.due("to line -1 by " + way, c.x.change(0, way, 0, -1), -1);
+                }
+                Calls.due("so many", c.x.count(0), 1);
             }
         }
         Calls c = new Calls();

@@ -262,7 +262,7 @@ public final class TrialsTest {
             Calls.due("way " + way, c.x.change(0, way, 1, 2), way + 1);
             Calls.same("text " + way, text(c, way + 1), due[way] + "run A.f()num\n");
         }
-        Calls.due("j is not asked", c.x.change(0, 0, 0, 99), 5);
+        Calls.due("j is no line that it names", c.x.change(0, 0, 0, 1), 5);
         Calls.due("exchanged with itself", c.x.change(0, 2, 0, 0), 6);
         Calls.same("the same", text(c, 6), text(c, 0));
         Calls.due("the run is no line", c.x.change(0, 0, 3, 0), -1);
